@@ -28,13 +28,30 @@ public final class ModelTest {
         CHECKS.end("ModelTest");
     }
 
+    /** Each fourth run looks most at texts, at names, at sets and spans, at lists: otherwise feed() is nearly all there is. */
     private void go() {
+        int most = run % 4;
+        if (most != 0) {
+            tellFirstRules();
+        }
         while (calls < CALLS && CHECKS.wrongs() == 0) {
-            if (random.nextInt(run % 2 == 0 ? 12 : 40) == 0) {
-                tellRule();
-            } else {
+            if (random.nextInt(most == 0 ? 8 : 60) == 0) {
+                tellRule(sum(0), name());
+            } else if (most == 0 || random.nextInt(4) == 0) {
                 call(2 + random.nextInt(31));
+            } else {
+                call(most == 1 ? 7 + random.nextInt(11) : most == 2 ? 18 + random.nextInt(8) : 27 + random.nextInt(5));
             }
+        }
+    }
+
+    private void tellFirstRules() {
+        for (int name = 0; name < 3; name++) {
+            tellRule(random.nextInt(3) == 0 ? "r0," + number(0, 30) : plain(6), name);
+        }
+        for (int list = 0; list < 4; list++) {
+            int n = random.nextInt(9);
+            due("list(" + list + ", " + n + ")", x.list(list, n), model.list(list, n));
         }
     }
 
@@ -58,7 +75,7 @@ public final class ModelTest {
     }
 
     private int day() {
-        return pick(0, random.nextInt(4) == 0 ? 40 : 719);
+        return pick(0, random.nextInt(3) == 0 ? 40 : 719);
     }
 
     /** Few spans, so that some are asked for again. */
@@ -70,15 +87,11 @@ public final class ModelTest {
         due("feed(" + letter + ")", x.feed(letter), model.feed(letter));
     }
 
-    private void tellRule() {
-        String text = sum(0);
-        if (random.nextInt(4) == 0) {
-            text = spoilt(text);
-        }
+    private void tellRule(String told, int name) {
+        String text = random.nextInt(4) == 0 ? spoilt(told) : told;
         for (int i = 0; i < text.length(); i++) {
             feed(text.charAt(i));
         }
-        int name = name();
         due("rule(" + name + ") of " + text, x.rule(name), model.rule(name));
     }
 
@@ -233,7 +246,11 @@ public final class ModelTest {
             case 29: due("move, " + all, x.move(list, i, other, j, n), model.move(list, i, other, j, n)); break;
             case 30:
                 due("lay, " + all, x.lay(list, i, name, day), model.lay(list, i, name, day));
-                if (random.nextBoolean()) {
+                if (random.nextInt(4) != 0) {
+                    int place = random.nextInt(10);
+                    due("put " + place + ", " + all, x.put(list, place, v), model.put(list, place, v));
+                }
+                if (random.nextInt(4) != 0) {
                     due("judge, " + all, x.judge(list, i, name, day), model.judge(list, i, name, day));
                 }
                 break;

@@ -267,6 +267,9 @@ public final class PromiseTest {
         due("10 the day itself", x.next(0, 7), 7);
         due("10 a later one", x.next(0, 8), 14);
         due("10 behind the last", x.next(0, 715), NO_DAY);
+        x.extra(9, 719);
+        due("10 the last day of all", x.next(9, 0), 719);
+        x.extra(9, 719);
         due("10 up to the last", x.next(0, 714), 714);
         due("10 of none", x.next(9, 0), NO_DAY);
     }
@@ -283,6 +286,8 @@ public final class PromiseTest {
         due("11 the day itself", x.ahead(0, 7), 7);
         due("11 an earlier one", x.ahead(0, 13), 7);
         due("11 before the first", x.ahead(2, 9), NO_DAY);
+        due("11 the first day of all", x.ahead(0, 6), 0);
+        due("11 from the first day", x.ahead(0, 0), 0);
         due("11 from the end", x.ahead(2, 719), 12);
         due("11 of none", x.ahead(9, 719), NO_DAY);
     }
@@ -330,8 +335,9 @@ public final class PromiseTest {
         due("13 hits", x.told(1), 0);
         due("13 the eldest again", x.count(0, 0, 100), 15);
         due("13 hits", x.told(1), 1);
-        due("13 it is the latest now", x.remembered(5, 1), 0);
-        due("13 the eldest now", x.remembered(0, 1), 1);
+        for (int i = 0; i < 6; i++) {
+            due("13 the one asked for again is the latest now, " + i, x.remembered(i, 1), (i + 1) % 6);
+        }
         x.count(0, 0, 101);
         due("13 a seventh: six are kept", x.told(3), 6);
         due("13 the eldest is no more", x.remembered(0, 1), 2);
@@ -387,7 +393,11 @@ public final class PromiseTest {
         x.copy(0, 5);
         x.image();
         due("what is refused, or of another, forgets nothing", x.told(3), 3);
+        x.count(1, 0, 60);
+        x.count(2, 0, 60);
         x.drop(1);
+        due("the others keep their order, 3", x.remembered(2, 0), 2);
+        due("the others keep their order", x.told(3), 3);
         due("the others keep their order, 1", x.remembered(0, 2), 50);
         due("the others keep their order, 2", x.remembered(1, 2), 60);
         x = three();
@@ -443,6 +453,11 @@ public final class PromiseTest {
         due("15 sixty", x.period(3), 60);
         x.extra(3, 700);
         due("15 an extra day breaks it", x.period(3), NO_DAY);
+        x.extra(3, 700);
+        Checks.rule(x, 3, "r0,59|r61,718");
+        due("15 a period that a word of sixty would hide", x.period(3), NO_DAY);
+        Checks.rule(x, 3, "e300,0");
+        due("15 a period that isn't of weeks or months", x.period(3), 300);
     }
 
     private static void clash() {
@@ -474,6 +489,7 @@ public final class PromiseTest {
         due("17 with itself", x.unlike(0, 0), NO_DAY);
         due("17 without a rule", x.unlike(8, 9), NO_DAY);
         due("17 with none", x.unlike(2, 9), 10);
+        due("17 the first day", x.unlike(0, 9), 0);
         x.copy(0, 9);
         due("17 the same", x.unlike(0, 9), NO_DAY);
         x.extra(9, 719);
@@ -499,6 +515,7 @@ public final class PromiseTest {
         due("18 far behind", x.merged(4, HIGH), NO_DAY);
         x.extra(9, 719);
         due("18 an extra day of J", x.merged(512, 0), 719);
+        due("18 its place in the set", x.merged(516, 3), 719);
     }
 
     private static int both(RecurringDays x) {
@@ -526,6 +543,8 @@ public final class PromiseTest {
         due("19 of no name", x.whose(0, 0), 0);
         x.extra(9, 11);
         due("19 J is the highest bit", x.whose(516, 1), 516);
+        x.extra(9, 719);
+        due("19 the last day", x.whose(512, 1), 512);
     }
 
     private static void busiest() {
@@ -643,13 +662,15 @@ public final class PromiseTest {
         x.count(0, 0, 2);
         x.count(0, 0, 3);
         x.drop(2);
+        due("24 remembered", x.told(3), 3);
         Checks.tape(x, "w0|w");
+        x.out(0, 719);
+        x.out(9, 2);
         due("24 rules", x.told(0), 2);
         due("24 hits", x.told(1), 1);
         due("24 misses", x.told(2), 3);
-        due("24 remembered", x.told(3), 3);
         due("24 the tape", x.told(4), 4);
-        due("24 out", x.told(5), 2);
+        due("24 out", x.told(5), 4);
         due("24 extra", x.told(6), 3);
     }
 
@@ -692,6 +713,10 @@ public final class PromiseTest {
         due("26 anew", x.list(0, 2), 1);
         due("26 it is 0 again", x.get(0, 1), 0);
         due("26 it is shorter", x.get(0, 2), NO_PLACE);
+        x.put(0, 0, 5);
+        x.list(0, 1);
+        due("26 the first place is 0 again", x.get(0, 0), 0);
+        x.list(0, 2);
         due("26 none", x.list(3, 0), 1);
         due("26 a row of none is held", x.put(3, 0, 1), BEYOND);
         x.put(0, 1, 6);
@@ -846,6 +871,12 @@ public final class PromiseTest {
         x.put(1, 1, -1);
         due("31 behind the last day", x.judge(1, 0, 2, 13), NO_DAY);
         due("31 nothing is changed", x.get(1, 0), 719);
+        x.list(1, 2);
+        due("31 day 0 is a day", x.judge(1, 0, 0, 0), 1);
+        x.put(1, 1, 7);
+        due("31 day 0 and the next", x.judge(1, 0, 0, 0), NO_DAY);
+        x.put(1, 0, -1);
+        due("31 -1 is not day 0", x.judge(1, 0, 0, 0), 0);
     }
 
     private static void image() {

@@ -75,6 +75,10 @@ public final class RuleTextTest {
         tells("!(!r4,5)", 2, 4, 5, 5);
         tells("r1,1&r2,2|r3,3", 1, 3, -5, 3);
         tells("!y1|r700,700", 361, 0, 1, 700);
+        for (String text : new String[] {"r3,3", "e700,3", "n1y(r3,9)", "l1y(r1,3)", "s1(r2,2)", "b1(r4,4)", "p3(r1,3)", "x0(r2,3)"}) {
+            tells("r0,9&" + text, 1, 3, -5, 3);
+            tells("r3,3&(r0,9&" + text + ")", 1, 3, -5, 3);
+        }
     }
 
     private static void names() {
@@ -217,6 +221,10 @@ public final class RuleTextTest {
         fault("e5", 2);
         fault("e5,", 3);
         fault("r719,", 5);
+        for (String letter : new String[] {"d", "m", "y", "e", "r", "n", "l", "s", "b", "p", "x", "("}) {
+            fault(letter, 1);
+            fault("w0|" + letter, 4);
+        }
         fault("n1", 2);
         fault("n1m", 3);
         fault("n1m(", 4);
