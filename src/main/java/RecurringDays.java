@@ -971,6 +971,9 @@ public final class RecurringDays {
         /** Whether a factor without ! stands here; it is put into the set then. */
         private boolean readPlain(int depth, Days factor, Plan[] plans) {
             int letter = here();
+            if (depth >= DEEPEST && hasBracket(letter)) {
+                return false;
+            }
             if (letter == '(') {
                 return readInner(depth, factor, plans);
             }
@@ -992,6 +995,16 @@ public final class RecurringDays {
                 case 's': case 'b': case 'p': case 'x':
                     place++;
                     return readChanged(letter, depth, factor, plans);
+                default:
+                    return false;
+            }
+        }
+
+        /** Whether what begins so has a bracket of its own: within DEEPEST others no RULE goes on with the letter itself. */
+        private static boolean hasBracket(int letter) {
+            switch (letter) {
+                case '(': case 'n': case 'l': case 's': case 'b': case 'p': case 'x':
+                    return true;
                 default:
                     return false;
             }

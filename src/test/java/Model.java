@@ -146,7 +146,7 @@ final class Model {
     }
 
     private TreeSet<Integer> bracket(int brackets) throws Fault {
-        want(brackets == 5 ? "" : "(");
+        want("(");
         TreeSet<Integer> days = expression(brackets + 1);
         want(")");
         return days;
@@ -154,6 +154,9 @@ final class Model {
 
     private TreeSet<Integer> plain(int brackets) throws Fault {
         char letter = see();
+        if (brackets == 5 && "(nlsbpx".indexOf(letter) >= 0) {
+            throw new Fault(here);
+        }
         if (letter == '(') {
             return bracket(brackets);
         }

@@ -14,6 +14,7 @@ public final class RuleTextTest {
         faultsOfBytes();
         endsTooEarly();
         brackets();
+        lettersWithinFive();
         wholeTape();
         CHECKS.end("RuleTextTest");
     }
@@ -25,6 +26,13 @@ public final class RuleTextTest {
         CHECKS.due(text + ": the first", x.at(3, 0), first);
         CHECKS.due(text + ": the second", x.at(3, 1), second);
         CHECKS.due(text + ": the last", x.at(3, -1), last);
+    }
+
+    private static void alike(String text, String other) {
+        RecurringDays x = new RecurringDays();
+        CHECKS.holds(text + " is a rule", Checks.rule(x, 0, text) > 0);
+        CHECKS.holds(other + " is a rule", Checks.rule(x, 1, other) > 0);
+        CHECKS.due(text + ": alike " + other, x.unlike(0, 1), -5);
     }
 
     private static void fault(String text, int place) {
@@ -238,13 +246,32 @@ public final class RuleTextTest {
         tells("(((((w0)))))", 103, 0, 7, 714);
         fault("((((((w0))))))", 5);
         tells("x0(x0(x0(x0(x0(w0)))))", 98, 35, 42, 714);
-        fault("x0(x0(x0(x0(x0(x0(w0))))))", 17);
+        fault("x0(x0(x0(x0(x0(x0(w0))))))", 15);
         fault("(n1m(s1(p1(x1((w0))))))", 14);
         fault("(((((!(w0))))))", 6);
         tells("(((((w0)))))|(((((w1)))))", 206, 0, 1, 715);
         tells("(w0|(w1&(!w2|(w3/(w4)))))", 206, 0, 1, 715);
         tells("!(!(!(!(!(w0)))))", 617, 1, 2, 719);
         tells("x1(r0,9|r20,29/x2(r3,5))&!(r0,0)", 16, 2, 5, 29);
+    }
+
+    /** A letter that needs a bracket of its own is none within five others, whatever stands behind it. */
+    private static void lettersWithinFive() {
+        for (String letter : new String[] {"n", "l", "s", "b", "p", "x"}) {
+            String block = letter.equals("n") || letter.equals("l") ? "m" : "";
+            for (String behind : new String[] {"", "1", "0", "9999", "1" + block, "1" + block + "(", "1" + block + "(w0))))))", "z"}) {
+                fault("(((((" + letter + behind, 5);
+                fault("(((((!" + letter + behind, 6);
+                fault("(((((w0|" + letter + behind, 8);
+                fault("(((((w0&!" + letter + behind, 9);
+                fault("(((((w0)|(" + letter + behind, 10);
+                fault("n1w(l1m(s1(b1(p1(" + letter + behind, 17);
+                fault("w0|(((((w0)))))/(x0((((" + letter + behind, 23);
+            }
+            alike("((((" + letter + "1" + block + "(!r0,3)))))", letter + "1" + block + "(!r0,3)");
+            fault("((((" + letter, 5);
+            fault("((((" + letter + "1" + block + "(" + letter + "1", 7 + block.length());
+        }
     }
 
     private static void wholeTape() {
