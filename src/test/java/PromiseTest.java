@@ -1,14 +1,22 @@
-/** Each promise by number: ordinary inputs, the edges that the document names, wrong inputs. */
-public final class PromiseTest {
-    private static final int NONE = -1, BAD = -2, STATE = -3, FULL = -4, NO_DAY = -5;
-    private static final int NOTHING = -11, BEYOND = -13, BELOW = -14, NO_PLACE = -2000000000;
-    private static final int LOW = Integer.MIN_VALUE, HIGH = Integer.MAX_VALUE;
-    private static final int[] NO_NAMES = {-1, 10, LOW, HIGH};
-    private static final int[] NO_DAYS = {-1, 720, LOW, HIGH};
-    private static final int[] NO_SETS = {-1, 1024, LOW, HIGH};
-    private static final int[] NO_LISTS = {-1, 4, LOW, HIGH};
+import java.util.function.IntFunction;
+import java.util.stream.Collectors;
+import java.util.stream.IntStream;
 
-    private static final Checks CHECKS = new Checks();
+/** The promises 1 to 33: a test for each sentence, ordinary inputs first, then edges and what is refused. */
+public final class PromiseTest {
+    private static final Sentences T = new Sentences();
+
+    /** A: WEEKDAY 0 (103 DAYS), B: DATES 1 and 15 (48), C: 10 to 12. */
+    private static final String THREE = """
+        rule(0, "w0") -> 103
+        rule(1, "d1|d15") -> 48
+        rule(2, "r10,12") -> 3
+        """;
+    /** List 0 holds 1 to 5, list 1 three zeros, list 2 none, list 3 nothing. */
+    private static final String LISTS = """
+        list(0, 5) list(1, 3) list(2, 0) -> 1
+        put(0, 0, 1) put(0, 1, 2) put(0, 2, 3) put(0, 3, 4) put(0, 4, 5) -> 1
+        """;
 
     public static void main(String[] args) {
         newObject();
@@ -17,16 +25,15 @@ public final class PromiseTest {
         rule();
         drop();
         copy();
+        outAndExtra("7", "out");
+        outAndExtra("8", "extra");
         out();
         extra();
-        outAndExtraTogether();
         has();
         next();
         ahead();
         at();
         count();
-        countRemembers();
-        changesForget();
         gap();
         period();
         clash();
@@ -47,889 +54,952 @@ public final class PromiseTest {
         judge();
         image();
         undo();
-        CHECKS.end("PromiseTest");
+        T.end("PromiseTest", "Promise", 33);
     }
 
-    private static void due(String call, long got, long want) {
-        CHECKS.due(call, got, want);
+    private static String each(int least, int most, IntFunction<String> line) {
+        return IntStream.rangeClosed(least, most).mapToObj(line).collect(Collectors.joining("\n", "", "\n"));
     }
 
-    /** An object with A: weekday 0, B: dates 1 and 15, C: days 10 to 12. */
-    private static RecurringDays three() {
-        RecurringDays x = new RecurringDays();
-        Checks.rule(x, 0, "w0");
-        Checks.rule(x, 1, "d1|d15");
-        Checks.rule(x, 2, "r10,12");
-        return x;
+    /** A list's first places. */
+    private static String holds(int list, int... values) {
+        return each(0, values.length - 1, i -> "get(" + list + ", " + i + ") -> " + values[i]);
     }
 
     private static void newObject() {
-        RecurringDays x = new RecurringDays();
-        for (int what = 0; what <= 6; what++) {
-            due("1 told(" + what + ")", x.told(what), 0);
-        }
-        for (int name = 0; name < 10; name++) {
-            due("1 drop(" + name + ")", x.drop(name), STATE);
-            due("1 count(" + name + ")", x.count(name, 0, 719), 0);
-        }
-        for (int list = 0; list < 4; list++) {
-            due("1 get(" + list + ", 0)", x.get(list, 0), NO_PLACE);
-            due("1 put(" + list + ", 0, 1)", x.put(list, 0, 1), NOTHING);
-        }
-        due("1 undo()", x.undo(), STATE);
-        due("1 NONE", RecurringDays.NONE, NONE);
-        due("1 BAD", RecurringDays.BAD, BAD);
-        due("1 STATE", RecurringDays.STATE, STATE);
-        due("1 FULL", RecurringDays.FULL, FULL);
+        T.test("Promise 1, no RULES", "told(0) image() -> 0\n" + each(0, 9, name -> "drop(" + name + ") -> STATE\ncopy(" + name
+            + ", 0) -> STATE\nat(" + name
+            + ", 0) -> NO_DAY"));
+        T.test("Promise 1, nothing else either", """
+            told(1) told(2) told(3) told(4) told(5) told(6) merged(1023, -1) clear() -> 0
+            undo() -> STATE
+            """
+            + each(0, 3, list -> "get(" + list + ", 0) -> NO_PLACE\nput(" + list + ", 0, 1) -> NOTHING") + "remembered(0, 0) -> NONE");
     }
 
     private static void feed() {
-        RecurringDays x = new RecurringDays();
-        due("2 feed(0)", x.feed(0), BAD);
-        due("2 feed(128)", x.feed(128), BAD);
-        due("2 feed(-1)", x.feed(-1), BAD);
-        due("2 feed(LOW)", x.feed(LOW), BAD);
-        due("2 feed(HIGH)", x.feed(HIGH), BAD);
-        due("2 feed(1)", x.feed(1), 1);
-        due("2 feed(127)", x.feed(127), 2);
-        for (int i = 3; i <= 80; i++) {
-            due("2 feed, the " + i + ". byte", x.feed('w'), i);
-        }
-        due("2 feed to a full tape", x.feed('w'), FULL);
-        due("2 BAD is named before FULL", x.feed(0), BAD);
-        due("2 told(4)", x.told(4), 80);
+        T.test("Promise 2, a byte (1 .. 127)", "feed(1) -> 1\nfeed(127) -> 2\nfeed(64) -> 3\ntold(4) -> 3");
+        T.test("Promise 2, it comes behind THE TAPE's", """
+            feed(119) -> 1
+            feed(48) -> 2
+            rule(0) -> 103
+            feed(48) -> 1
+            feed(119) -> 2
+            rule(0) -> -100
+            """);
+        T.test("Promise 2, how many it has", each(1, 80, i -> "feed(119) -> " + i) + "told(4) -> 80");
+        T.test("Promise 2, BAD: below 1", "feed(0) feed(-1) feed(MIN) feed(-137) -> BAD\ntold(4) -> 0");
+        T.test("Promise 2, BAD: above 127", "feed(128) feed(255) feed(256) feed(375) feed(MAX) -> BAD\ntold(4) -> 0");
+        T.test("Promise 2, FULL: behind 80", "tape(\"" + "w0|".repeat(26)
+            + "w\") -> 79\nfeed(48) -> 80\nfeed(124) feed(48) -> FULL\ntold(4) -> 80\nrule(0) -> 103\nfeed(119) -> 1");
     }
 
     private static void clear() {
-        RecurringDays x = new RecurringDays();
-        due("3 clear() of nothing", x.clear(), 0);
-        Checks.tape(x, "w01");
-        due("3 clear()", x.clear(), 3);
-        due("3 clear() again", x.clear(), 0);
-        due("3 told(4)", x.told(4), 0);
-        due("3 nothing of the old tape is left", Checks.rule(x, 0, "w"), -101);
-        for (int i = 0; i < 80; i++) {
-            x.feed('(');
-        }
-        due("3 clear() of a full tape", x.clear(), 80);
-        due("3 feed behind clear()", x.feed('w'), 1);
+        T.test("Promise 3, THE TAPE is empty then", """
+            tape("w0|") -> 3
+            clear() -> 3
+            told(4) clear() -> 0
+            rule(0, "r1,2") -> 2
+            tape("w0")
+            clear() -> 2
+            rule(0) -> -100
+            """);
+        T.test("Promise 3, how many bytes it had", "clear() -> 0\nfeed(119) clear() -> 1\ntape(\"" + "(".repeat(80)
+            + "\") clear() -> 80\nfeed(119) -> 1");
+        T.test("Promise 3, how many bytes it had: none behind a RULE", """
+            rule(0, "w0") -> 103
+            clear() -> 0
+            rule(0, "w7") -> -101
+            clear() -> 0
+            """);
     }
 
     private static void rule() {
-        RecurringDays x = new RecurringDays();
-        for (int name : NO_NAMES) {
-            Checks.tape(x, "w0");
-            due("4 rule(" + name + ")", x.rule(name), NONE);
-            due("4 the tape stays", x.clear(), 2);
-        }
-        due("4 w0", Checks.rule(x, 9, "w0"), 103);
-        due("4 the tape is empty behind a rule", x.told(4), 0);
-        due("4 no text", x.rule(9), -100);
-        due("4 a fault", Checks.rule(x, 9, "w0w"), -102);
-        due("4 the tape is empty behind a fault", x.told(4), 0);
-        due("4 a fault does nothing", x.count(9, 0, 719), 103);
-        due("4 another rule", Checks.rule(x, 9, "r5,5"), 1);
-        due("4 it is in the first one's place", x.at(9, -1), 5);
-        x.extra(9, 100);
-        x.out(9, 5);
-        due("4 counts the rule's days alone", Checks.rule(x, 9, "r5,6"), 2);
-        due("4 out and extra days stay", x.at(9, 0) * 1000 + x.at(9, 1), 6100);
-        due("4 a rule without a day", Checks.rule(x, 8, "w0&w1"), 0);
-        due("4 it is a rule all the same", x.drop(8), 0);
+        T.test("Promise 4, THE TAPE is the RULE of a NAME then", """
+            rule(9, "r5,6") -> 2
+            at(9, 0) -> 5
+            rule(9, "r8,8") -> 1
+            at(9, 0) at(9, -1) -> 8
+            told(0) -> 1
+            """);
+        T.test("Promise 4, OUT and EXTRA DAYS stay", """
+            out(9, 5) extra(9, 100)
+            rule(9, "r5,6") -> 2
+            at(9, 0) -> 6
+            at(9, 1) -> 100
+            told(5) told(6) -> 1
+            """);
+        T.test("Promise 4, how many DAYS the RULE has", "rule(0, \"w0&w1\") -> 0\nrule(0, \"e1,0\") -> 720\nrule(0, \"r719,719\") -> 1");
+        T.test("Promise 4, how many DAYS the RULE has: not those OUT or EXTRA", """
+            out(0, 5) extra(0, 9) extra(0, 11)
+            rule(0, "r5,6") -> 2
+            rule(1, "A") -> 3
+            rule(2, "B") -> 3
+            """);
+        T.test("Promise 4, -100 less the FAULT", "rule(0) -> -100\nrule(0, \"w0w\") -> -102\nrule(0, \"" + "w00|".repeat(20)
+            + "\") -> -180\ntold(0) -> 0");
+        T.test("Promise 4, NONE: name", "tape(\"w0\")\nrule(-1) rule(10) rule(MIN) rule(MAX) -> NONE");
+        T.test("Promise 4, NONE: THE TAPE stays", "tape(\"w0\")\nrule(10) rule(-1) -> NONE\ntold(4) -> 2\nfeed(48) -> 3\nrule(9) -> 103");
     }
 
     private static void drop() {
-        RecurringDays x = three();
-        for (int name : NO_NAMES) {
-            due("5 drop(" + name + ")", x.drop(name), NONE);
-        }
-        due("5 drop of none", x.drop(3), STATE);
-        x.extra(1, 5);
-        x.out(1, 0);
-        due("5 drop(1)", x.drop(1), 48);
-        due("5 drop(1) again", x.drop(1), STATE);
-        due("5 extra days stay", x.at(1, 0), 5);
-        due("5 and no other is left", x.at(1, 1), NO_DAY);
-        Checks.rule(x, 1, "r0,1");
-        due("5 out days stay", x.at(1, 0), 1);
-        due("5 others stay", x.drop(0), 103);
+        T.test("Promise 5, a NAME has no RULE", THREE + "drop(1) -> 48\ntold(0) -> 2\nat(1, 0) -> NO_DAY\ndrop(0) -> 103");
+        T.test("Promise 5, OUT and EXTRA DAYS stay", THREE + """
+            out(1, 0) extra(1, 5)
+            drop(1) -> 48
+            at(1, 0) at(1, -1) -> 5
+            rule(1, "r0,1") -> 2
+            at(1, 0) -> 1
+            """);
+        T.test("Promise 5, how many DAYS that had: not those OUT or EXTRA", THREE + """
+            out(1, 0) extra(1, 5)
+            drop(1) -> 48
+            rule(1, "w0&w1") -> 0
+            drop(1) -> 0
+            rule(1, "e1,0")
+            drop(1) -> 720
+            """);
+        T.test("Promise 5, NONE", "drop(-1) drop(10) drop(MIN) drop(MAX) -> NONE");
+        T.test("Promise 5, STATE: it has none", THREE + "extra(3, 5)\ndrop(3) -> STATE\ndrop(1) -> 48\ndrop(1) -> STATE");
     }
 
     private static void copy() {
-        RecurringDays x = three();
-        for (int name : NO_NAMES) {
-            due("6 copy(" + name + ", 0)", x.copy(name, 0), NONE);
-            due("6 copy(0, " + name + ")", x.copy(0, name), NONE);
-            due("6 NONE is named before STATE", x.copy(5, name), NONE);
-        }
-        due("6 copy of none", x.copy(5, 0), STATE);
-        due("6 it does nothing", x.count(0, 0, 719), 103);
-        x.extra(2, 100);
-        x.out(2, 10);
-        x.extra(5, 7);
-        x.out(5, 12);
-        due("6 copy(2, 5)", x.copy(2, 5), 3);
-        due("6 days of the copy, 1", x.at(5, 0), 7);
-        due("6 days of the copy, 2", x.at(5, 1), 10);
-        due("6 days of the copy, 3", x.at(5, 2), 11);
-        due("6 days of the copy, 4", x.at(5, 3), NO_DAY);
-        due("6 the first keeps its own", x.at(2, 0), 11);
-        due("6 to itself", x.copy(2, 2), 3);
-        x.drop(2);
-        due("6 the copy stands alone", x.drop(5), 3);
+        T.test("Promise 6, another NAME has the RULE of a NAME", THREE + """
+            copy(2, 9) -> 3
+            at(9, 0) -> 10
+            at(9, -1) -> 12
+            told(0) -> 4
+            copy(2, 0) -> 3
+            told(0) -> 4
+            unlike(0, 9) -> NO_DAY
+            """);
+        T.test("Promise 6, (not what is OUT or EXTRA)", THREE + """
+            out(2, 10) extra(2, 100) -> 1
+            out(5, 12) extra(5, 7) -> 1
+            copy(2, 5) -> 3
+            at(5, 0) -> 7
+            at(5, 1) -> 10
+            at(5, 2) -> 11
+            at(5, 3) -> NO_DAY
+            at(2, 0) -> 11
+            at(2, -1) -> 100
+            """);
+        T.test("Promise 6, how many DAYS that has: the RULE", THREE + """
+            out(2, 10)
+            out(2, 11)
+            copy(2, 5) copy(5, 2) -> 3
+            rule(3, "w0&w1")
+            copy(3, 5) -> 0
+            rule(3, "e1,0")
+            copy(3, 5) -> 720
+            """);
+        T.test("Promise 6, it is a RULE of its own then", THREE + """
+            copy(2, 5) -> 3
+            rule(2, "r1,1") -> 1
+            drop(5) -> 3
+            copy(2, 5) -> 1
+            drop(2) -> 1
+            at(5, 0) -> 1
+            """);
+        T.test("Promise 6, to itself", THREE + "copy(2, 2) -> 3\nat(2, 0) -> 10\ntold(0) -> 3\ndrop(2) -> 3");
+        T.test("Promise 6, NONE: either", THREE + """
+            copy(-1, 0) copy(10, 0) copy(MIN, 0) copy(MAX, 0) copy(0, -1) copy(0, 10) copy(0, MIN) copy(0, MAX) -> NONE
+            copy(5, 10) copy(10, 5) -> NONE
+            """);
+        T.test("Promise 6, STATE: the first has none", THREE + """
+            extra(5, 1)
+            copy(5, 0) copy(5, 6) copy(5, 5) -> STATE
+            drop(0) -> 103
+            copy(0, 1) -> STATE
+            drop(1) -> 48
+            """);
+        T.test("Promise 6, SPANS of the other one are REMEMBERED no more, though it be the same RULE", THREE + """
+            copy(0, 5) -> 103
+            count(5, 0, 50) count(0, 0, 50) -> 8
+            copy(0, 5) -> 103
+            told(3) -> 1
+            remembered(0, 0) -> 0
+            """);
+        T.test("Promise 6, SPANS are REMEMBERED no more, though it be the same NAME", THREE + """
+            count(0, 0, 50) -> 8
+            count(1, 0, 50) -> 4
+            copy(0, 0) -> 103
+            told(3) remembered(0, 0) -> 1
+            """);
+    }
+
+    /** What promises 7 and 8 have alike. */
+    private static void outAndExtra(String promise, String call) {
+        String seven = each(1, 7, i -> "out(0, " + i + ") -> " + i);
+        String p = "Promise " + promise + ", ";
+        T.test(p + "how many are", (seven + "out(1, 0) out(9, 719) -> 1\nout(9, 0) -> 2").replace("out(", call + "("));
+        T.test(p + "if it was, it is one no more", """
+            out(0, 0) -> 1
+            out(0, 719) -> 2
+            out(0, 0) -> 1
+            out(0, 0) -> 2
+            out(0, 719) -> 1
+            out(0, 0) -> 0
+            out(0, 0) -> 1
+            """.replace("out(", call + "("));
+        T.test(p + "also with 7: no FULL", (seven + """
+            out(0, 7) -> 6
+            out(0, 7) -> 7
+            out(0, 1) -> 6
+            out(0, 8) -> 7
+            """).replace("out(", call + "("));
+        T.test(p + "NONE: name", "out(-1, 0) out(10, 0) out(MIN, 0) out(MAX, 0) -> NONE\ntold(5) told(6) -> 0".replace("out(", call
+            + "("));
+        T.test(p + "BAD: day", "out(0, -1) out(0, 720) out(9, MIN) out(9, MAX) -> BAD\ntold(5) told(6) -> 0".replace("out(", call
+            + "("));
+        T.test(p + "FULL: an eighth", (seven + """
+            out(0, 8) out(0, 0) out(0, 719) -> FULL
+            told(5) -> 7
+            out(1, 8) -> 1
+            """).replace("out(", call + "(")
+            .replace("told(5)", call.equals("out") ? "told(5)" : "told(6)"));
     }
 
     private static void out() {
-        RecurringDays x = new RecurringDays();
-        Checks.rule(x, 0, "r0,9");
-        for (int name : NO_NAMES) {
-            due("7 out(" + name + ", 0)", x.out(name, 0), NONE);
-            due("7 NONE is named before BAD", x.out(name, -1), NONE);
-        }
-        for (int day : NO_DAYS) {
-            due("7 out(0, " + day + ")", x.out(0, day), BAD);
-        }
-        for (int i = 1; i <= 7; i++) {
-            due("7 out, the " + i + ".", x.out(0, i), i);
-        }
-        due("7 one too many", x.out(0, 8), FULL);
-        due("7 it stays in", x.has(0, 8), 1);
-        due("7 BAD is named before FULL", x.out(0, 720), BAD);
-        due("7 another name has its own seven", x.out(1, 719), 1);
-        due("7 no more out, also with 7", x.out(0, 4), 6);
-        due("7 it is back", x.has(0, 4), 1);
-        due("7 the next is out", x.has(0, 5), 0);
-        due("7 room for one", x.out(0, 0), 7);
-        due("7 count", x.count(0, 0, 719), 3);
+        T.test("Promise 7, a DAY is left OUT", """
+            rule(0, "r0,9") -> 10
+            out(0, 0) -> 1
+            has(0, 0) -> 0
+            at(0, 0) -> 1
+            out(0, 9) -> 2
+            at(0, -1) -> 8
+            out(0, 0) -> 1
+            at(0, 0) -> 0
+            told(5) -> 1
+            """);
+        T.test("Promise 7, one that isn't there, too", """
+            rule(0, "r0,9") -> 10
+            out(0, 20) -> 1
+            count(0, 0, 719) -> 10
+            rule(0, "r19,21") -> 3
+            count(0, 0, 719) -> 2
+            """);
+        T.test("Promise 7, FULL: it stays in", "rule(0, \"r0,9\")\n" + each(1, 7, i -> "out(0, " + i + ") -> " + i) + """
+            out(0, 8) -> FULL
+            has(0, 8) -> 1
+            count(0, 0, 719) -> 3
+            """);
+        T.test("Promise 7, EXTRA ones are another matter", each(1, 7, i -> "extra(0, " + i + ") -> " + i) + """
+            out(0, 9) -> 1
+            out(0, 1) -> 2
+            told(6) -> 7
+            """);
     }
 
     private static void extra() {
-        RecurringDays x = new RecurringDays();
-        for (int name : NO_NAMES) {
-            due("8 extra(" + name + ", 0)", x.extra(name, 0), NONE);
-            due("8 NONE is named before BAD", x.extra(name, 720), NONE);
-        }
-        for (int day : NO_DAYS) {
-            due("8 extra(0, " + day + ")", x.extra(0, day), BAD);
-        }
-        for (int i = 1; i <= 7; i++) {
-            due("8 extra, the " + i + ".", x.extra(0, i * 100), i);
-        }
-        due("8 one too many", x.extra(0, 719), FULL);
-        due("8 it stays away", x.has(0, 719), 0);
-        due("8 BAD is named before FULL", x.extra(0, -1), BAD);
-        due("8 another name has its own seven", x.extra(9, 0), 1);
-        due("8 no more extra, also with 7", x.extra(0, 100), 6);
-        due("8 it is away", x.has(0, 100), 0);
-        due("8 days without a rule", x.count(0, 0, 719), 6);
-        due("8 room for one", x.extra(0, 719), 7);
-        due("8 the last", x.at(0, -1), 719);
-    }
-
-    private static void outAndExtraTogether() {
-        RecurringDays x = new RecurringDays();
-        Checks.rule(x, 0, "r0,1");
-        due("8 extra and in the rule", x.extra(0, 1), 1);
-        due("8 a day once", x.count(0, 0, 719), 2);
-        due("8 no more extra, still in the rule", x.extra(0, 1), 0);
-        due("8 has", x.has(0, 1), 1);
-        x.extra(0, 50);
-        due("8 extra and out", x.out(0, 50), 1);
-        due("8 is none", x.has(0, 50), 0);
-        due("8 no more out", x.out(0, 50), 0);
-        due("8 is one again", x.has(0, 50), 1);
+        T.test("Promise 8, a DAY is EXTRA", """
+            extra(0, 0) -> 1
+            has(0, 0) -> 1
+            extra(0, 719) -> 2
+            at(0, -1) -> 719
+            extra(0, 0) -> 1
+            has(0, 0) -> 0
+            told(6) -> 1
+            told(0) -> 0
+            """);
+        T.test("Promise 8, one that is there, too", """
+            rule(0, "r0,1") -> 2
+            extra(0, 1) -> 1
+            count(0, 0, 719) -> 2
+            extra(0, 1) -> 0
+            has(0, 1) -> 1
+            """);
+        T.test("Promise 8, FULL: it stays away", each(1, 7, i -> "extra(0, " + i + ") -> " + i) + """
+            extra(0, 8) -> FULL
+            has(0, 8) -> 0
+            count(0, 0, 719) -> 7
+            """);
+        T.test("Promise 8, OUT ones are another matter", each(1, 7, i -> "out(0, " + i + ") -> " + i) + """
+            extra(0, 9) -> 1
+            extra(0, 1) -> 2
+            told(5) -> 7
+            """);
     }
 
     private static void has() {
-        RecurringDays x = three();
-        for (int name : NO_NAMES) {
-            due("9 has(" + name + ", 0)", x.has(name, 0), NONE);
-            due("9 NONE is named before BAD", x.has(name, -1), NONE);
-        }
-        for (int day : NO_DAYS) {
-            due("9 has(0, " + day + ")", x.has(0, day), BAD);
-        }
-        for (int day = 0; day < 720; day++) {
-            due("9 has(0, " + day + ")", x.has(0, day), day % 7 == 0 ? 1 : 0);
-        }
-        due("9 has of none", x.has(9, 0), 0);
+        T.test("Promise 9, whether it is one of its DAYS: 1, 0", THREE + each(0, 238, i -> "has(0, " + 3 * i + ") -> "
+            + (i % 7 == 0 ? 1 : 0))
+            + "has(2, 9) has(2, 13) has(9, 0) has(9, 719) -> 0\nhas(2, 10) has(2, 12) -> 1");
+        T.test("Promise 9, NONE: name", "has(-1, 0) has(10, 0) has(MIN, 0) has(MAX, 0) has(10, 720) -> NONE");
+        T.test("Promise 9, BAD: day", """
+            rule(0, "e1,0")
+            has(0, -1) has(0, 720) has(0, MIN) has(0, MAX) has(9, 720) -> BAD
+            has(0, 0) has(0, 719) -> 1
+            """);
     }
 
     private static void next() {
-        RecurringDays x = three();
-        for (int name : NO_NAMES) {
-            due("10 next(" + name + ", 0)", x.next(name, 0), NONE);
-            due("10 NONE is named before BAD", x.next(name, -1), NONE);
-        }
-        for (int day : NO_DAYS) {
-            due("10 next(0, " + day + ")", x.next(0, day), BAD);
-        }
-        due("10 the day itself", x.next(0, 7), 7);
-        due("10 a later one", x.next(0, 8), 14);
-        due("10 behind the last", x.next(0, 715), NO_DAY);
-        x.extra(9, 719);
-        due("10 the last day of all", x.next(9, 0), 719);
-        x.extra(9, 719);
-        due("10 up to the last", x.next(0, 714), 714);
-        due("10 of none", x.next(9, 0), NO_DAY);
+        T.test("Promise 10, the first of its DAYS from a DAY on", THREE + """
+            next(0, 1) next(0, 7) -> 7
+            next(0, 8) -> 14
+            next(0, 0) -> 0
+            next(2, 0) -> 10
+            next(2, 11) -> 11
+            """);
+        T.test("Promise 10, from the last on", THREE
+            + "next(0, 708) next(0, 714) -> 714\nextra(9, 719)\nnext(9, 0) next(9, 719) -> 719");
+        T.test("Promise 10, -5", THREE + "next(0, 715) next(2, 13) next(2, 719) next(9, 0) -> -5");
+        T.test("Promise 10, NONE", "next(-1, 0) next(10, 0) next(MIN, 0) next(MAX, 0) -> NONE");
+        T.test("Promise 10, BAD", "next(0, -1) next(0, 720) next(0, MIN) next(0, MAX) -> BAD");
     }
 
     private static void ahead() {
-        RecurringDays x = three();
-        for (int name : NO_NAMES) {
-            due("11 ahead(" + name + ", 0)", x.ahead(name, 0), NONE);
-            due("11 NONE is named before BAD", x.ahead(name, 720), NONE);
-        }
-        for (int day : NO_DAYS) {
-            due("11 ahead(0, " + day + ")", x.ahead(0, day), BAD);
-        }
-        due("11 the day itself", x.ahead(0, 7), 7);
-        due("11 an earlier one", x.ahead(0, 13), 7);
-        due("11 before the first", x.ahead(2, 9), NO_DAY);
-        due("11 the first day of all", x.ahead(0, 6), 0);
-        due("11 from the first day", x.ahead(0, 0), 0);
-        due("11 from the end", x.ahead(2, 719), 12);
-        due("11 of none", x.ahead(9, 719), NO_DAY);
+        T.test("Promise 11, the last of its DAYS up to a DAY", THREE + """
+            ahead(0, 7) ahead(0, 13) -> 7
+            ahead(0, 14) -> 14
+            ahead(2, 719) ahead(2, 12) -> 12
+            ahead(2, 11) -> 11
+            ahead(0, 719) -> 714
+            """);
+        T.test("Promise 11, up to the first", THREE + """
+            ahead(0, 0) ahead(0, 6) -> 0
+            ahead(2, 10) -> 10
+            extra(9, 719)
+            ahead(9, 719) -> 719
+            """);
+        T.test("Promise 11, -5", THREE + "ahead(2, 9) ahead(2, 0) ahead(9, 719) -> -5");
+        T.test("Promise 11, NONE", "ahead(-1, 0) ahead(10, 0) ahead(MIN, 0) ahead(MAX, 0) -> NONE");
+        T.test("Promise 11, BAD", "ahead(0, -1) ahead(0, 720) ahead(0, MIN) ahead(0, MAX) -> BAD");
     }
 
     private static void at() {
-        RecurringDays x = three();
-        for (int name : NO_NAMES) {
-            due("12 at(" + name + ", 0)", x.at(name, 0), NONE);
-        }
-        due("12 at(2, 0)", x.at(2, 0), 10);
-        due("12 at(2, 2)", x.at(2, 2), 12);
-        due("12 at(2, 3)", x.at(2, 3), NO_DAY);
-        due("12 at(2, -1)", x.at(2, -1), 12);
-        due("12 at(2, -3)", x.at(2, -3), 10);
-        due("12 at(2, -4)", x.at(2, -4), NO_DAY);
-        due("12 at(2, LOW)", x.at(2, LOW), NO_DAY);
-        due("12 at(2, HIGH)", x.at(2, HIGH), NO_DAY);
-        due("12 of none", x.at(9, 0), NO_DAY);
+        T.test("Promise 12, the i-th of its DAYS (0 the first)", THREE + """
+            at(2, 0) -> 10
+            at(2, 1) -> 11
+            at(2, 2) -> 12
+            at(0, 0) -> 0
+            at(0, 102) -> 714
+            rule(3, "e1,0")
+            at(3, 719) -> 719
+            """);
+        T.test("Promise 12, below 0 from the end (-1 the last)", THREE + """
+            at(2, -1) -> 12
+            at(2, -2) -> 11
+            at(2, -3) -> 10
+            at(0, -103) -> 0
+            rule(3, "e1,0")
+            at(3, -720) -> 0
+            at(3, -1) -> 719
+            """);
+        T.test("Promise 12, -5: behind the last", THREE + """
+            at(2, 3) at(0, 103) at(2, 720) at(2, MAX) at(9, 0) -> -5
+            rule(3, "e1,0")
+            at(3, 720) at(3, MAX) -> -5
+            """);
+        T.test("Promise 12, -5: before the first", THREE + """
+            at(2, -4) at(0, -104) at(2, -720) at(2, MIN) at(9, -1) -> -5
+            rule(3, "e1,0")
+            at(3, -721) at(3, MIN) -> -5
+            """);
+        T.test("Promise 12, NONE", "at(-1, 0) at(10, 0) at(MIN, 0) at(MAX, -1) -> NONE");
     }
 
     private static void count() {
-        RecurringDays x = three();
-        for (int name : NO_NAMES) {
-            due("13 count(" + name + ", 0, 1)", x.count(name, 0, 1), NONE);
-            due("13 NONE is named before BAD", x.count(name, 1, 0), NONE);
-        }
-        for (int day : NO_DAYS) {
-            due("13 count(0, " + day + ", 719)", x.count(0, day, 719), BAD);
-            due("13 count(0, 0, " + day + ")", x.count(0, 0, day), BAD);
-        }
-        due("13 to is below from", x.count(0, 5, 4), BAD);
-        due("13 what is refused is no miss", x.told(2), 0);
-        due("13 one day", x.count(0, 7, 7), 1);
-        due("13 both ends count", x.count(0, 7, 14), 2);
-        due("13 between them", x.count(0, 8, 13), 0);
-        due("13 all", x.count(2, 0, 719), 3);
-    }
-
-    private static void countRemembers() {
-        RecurringDays x = three();
-        for (int i = 0; i < 6; i++) {
-            x.count(0, i, 100);
-        }
-        due("13 misses", x.told(2), 6);
-        due("13 hits", x.told(1), 0);
-        due("13 the eldest again", x.count(0, 0, 100), 15);
-        due("13 hits", x.told(1), 1);
-        for (int i = 0; i < 6; i++) {
-            due("13 the one asked for again is the latest now, " + i, x.remembered(i, 1), (i + 1) % 6);
-        }
-        x.count(0, 0, 101);
-        due("13 a seventh: six are kept", x.told(3), 6);
-        due("13 the eldest is no more", x.remembered(0, 1), 2);
-        due("13 the latest", x.remembered(5, 2), 101);
-        x.count(0, 1, 100);
-        due("13 what is no more is a miss", x.told(2), 8);
-        x.count(1, 1, 100);
-        due("13 another name is another span", x.told(2), 9);
-        due("13 hits", x.told(1), 1);
-    }
-
-    /** A span of A and one of B are asked for; a change of A leaves B's alone. */
-    private static RecurringDays asked() {
-        RecurringDays x = three();
-        x.count(0, 0, 50);
-        x.count(1, 0, 50);
-        x.count(0, 0, 60);
-        return x;
-    }
-
-    private static void oneIsLeft(String change, RecurringDays x) {
-        due(change + ": how many are left", x.told(3), 1);
-        due(change + ": whose", x.remembered(0, 0), 1);
-        due(change + ": how many days", x.remembered(0, 3), 4);
-        due(change + ": hits stay", x.told(1), 0);
-        due(change + ": misses stay", x.told(2), 3);
-    }
-
-    private static void changesForget() {
-        RecurringDays x = asked();
-        Checks.rule(x, 0, "w0");
-        oneIsLeft("4 the same rule told anew", x);
-        x = asked();
-        x.drop(0);
-        oneIsLeft("5 drop", x);
-        x = asked();
-        x.copy(2, 0);
-        oneIsLeft("6 copy", x);
-        x = asked();
-        x.copy(0, 0);
-        oneIsLeft("6 copy to itself", x);
-        x = asked();
-        x.out(0, 719);
-        oneIsLeft("7 out", x);
-        x = asked();
-        x.extra(0, 719);
-        oneIsLeft("8 extra", x);
-        x = asked();
-        Checks.rule(x, 0, "w7");
-        x.copy(5, 0);
-        x.out(0, 720);
-        x.extra(0, -1);
-        x.copy(0, 5);
-        x.image();
-        due("what is refused, or of another, forgets nothing", x.told(3), 3);
-        x.count(1, 0, 60);
-        x.count(2, 0, 60);
-        x.drop(1);
-        due("the others keep their order, 3", x.remembered(2, 0), 2);
-        due("the others keep their order", x.told(3), 3);
-        due("the others keep their order, 1", x.remembered(0, 2), 50);
-        due("the others keep their order, 2", x.remembered(1, 2), 60);
-        x = three();
-        for (int day = 0; day < 7; day++) {
-            x.out(0, day);
-            x.extra(0, day);
-        }
-        x.count(0, 0, 50);
-        due("7 full", x.out(0, 100), FULL);
-        due("8 full", x.extra(0, 100), FULL);
-        due("what is full forgets nothing", x.told(3), 1);
-        x.out(0, 3);
-        due("7 no more out forgets", x.told(3), 0);
+        T.test("Promise 13, how many of its DAYS are in the SPAN from a DAY to another", THREE + """
+            count(0, 0, 719) -> 103
+            count(2, 0, 719) -> 3
+            count(0, 8, 13) count(9, 0, 719) -> 0
+            count(1, 0, 29) -> 2
+            """);
+        T.test("Promise 13, both ends are of the SPAN", THREE + """
+            count(0, 7, 14) -> 2
+            count(0, 7, 13) count(0, 8, 14) -> 1
+            rule(3, "e1,0")
+            count(3, 0, 719) -> 720
+            count(3, 718, 719) count(3, 0, 1) -> 2
+            """);
+        T.test("Promise 13, a SPAN of one DAY", THREE + "count(0, 7, 7) count(0, 0, 0) -> 1\ncount(0, 8, 8) count(0, 719, 719) -> 0");
+        T.test("Promise 13, a SPAN that is REMEMBERED is answered alike", THREE + """
+            count(0, 0, 50) count(0, 0, 50) -> 8
+            out(0, 7)
+            count(0, 0, 50) count(0, 0, 50) -> 7
+            extra(0, 7) extra(0, 8)
+            count(0, 0, 50) -> 8
+            """);
+        T.test("Promise 13, NONE", "count(-1, 0, 1) count(10, 0, 1) count(MIN, 0, 1) count(MAX, 0, 1) -> NONE\ntold(2) -> 0");
+        T.test("Promise 13, BAD: from", """
+            count(0, -1, 719) count(0, 720, 720) count(0, MIN, 719) count(0, MAX, MAX) count(0, -1, -1) -> BAD
+            told(2) -> 0
+            """);
+        T.test("Promise 13, BAD: to", """
+            count(0, 0, 720) count(0, 719, 720) count(0, 0, MAX) count(0, 0, -1) count(0, 0, MIN) -> BAD
+            told(2) -> 0
+            """);
+        T.test("Promise 13, BAD: to is below from", """
+            count(0, 5, 4) count(0, 1, 0) count(0, 719, 718) count(0, 719, 0) -> BAD
+            told(2) told(3) -> 0
+            """);
     }
 
     private static void gap() {
-        RecurringDays x = three();
-        for (int name : NO_NAMES) {
-            due("14 gap(" + name + ")", x.gap(name), NONE);
-        }
-        due("14 between", x.gap(0), 6);
-        due("14 at the end", x.gap(2), 707);
-        due("14 of none", x.gap(9), 720);
-        Checks.rule(x, 3, "r600,719");
-        due("14 at the start", x.gap(3), 600);
-        Checks.rule(x, 3, "r0,719");
-        due("14 of all", x.gap(3), 0);
-        x.out(3, 5);
-        due("14 a day out", x.gap(3), 1);
+        T.test("Promise 14, GAP", THREE + "gap(0) -> 6\ngap(1) -> 15\ngap(2) -> 707\ngap(9) -> 720\nextra(9, 0)\ngap(9) -> 719");
+        T.test("Promise 14, NONE", "gap(-1) gap(10) gap(MIN) gap(MAX) -> NONE");
     }
 
     private static void period() {
-        RecurringDays x = three();
-        for (int name : NO_NAMES) {
-            due("15 period(" + name + ")", x.period(name), NONE);
-        }
-        due("15 of none", x.period(9), 1);
-        due("15 a week", x.period(0), 7);
-        due("15 a month", x.period(1), 30);
-        due("15 days once", x.period(2), NO_DAY);
-        due("15 a year", Checks.rule(x, 3, "m2") > 0 ? x.period(3) : 0, 360);
-        Checks.rule(x, 3, "e359,0");
-        due("15 a day less than a year", x.period(3), 359);
-        Checks.rule(x, 3, "e361,0");
-        due("15 a day more than a year", x.period(3), NO_DAY);
-        Checks.rule(x, 3, "r359,360");
-        due("15 no day has another p ahead", x.period(3), NO_DAY);
-        Checks.rule(x, 3, "r0,719");
-        due("15 of all", x.period(3), 1);
-        Checks.rule(x, 3, "r719,719");
-        due("15 the last day", x.period(3), NO_DAY);
-        Checks.rule(x, 3, "e60,59");
-        due("15 sixty", x.period(3), 60);
-        x.extra(3, 700);
-        due("15 an extra day breaks it", x.period(3), NO_DAY);
-        x.extra(3, 700);
-        Checks.rule(x, 3, "r0,59|r61,718");
-        due("15 a period that a word of sixty would hide", x.period(3), NO_DAY);
-        Checks.rule(x, 3, "e300,0");
-        due("15 a period that isn't of weeks or months", x.period(3), 300);
+        T.test("Promise 15, PERIOD", THREE + "period(0) -> 7\nperiod(1) -> 30\nperiod(9) -> 1");
+        T.test("Promise 15, -5", THREE + "period(2) -> -5\nextra(9, 0)\nperiod(9) -> -5");
+        T.test("Promise 15, NONE", "period(-1) period(10) period(MIN) period(MAX) -> NONE");
     }
 
     private static void clash() {
-        RecurringDays x = three();
-        for (int name : NO_NAMES) {
-            due("16 clash(" + name + ", 0, 0)", x.clash(name, 0, 0), NONE);
-            due("16 clash(0, " + name + ", 0)", x.clash(0, name, 0), NONE);
-            due("16 NONE is named before BAD", x.clash(0, name, -1), NONE);
-        }
-        for (int day : NO_DAYS) {
-            due("16 clash(0, 1, " + day + ")", x.clash(0, 1, day), BAD);
-        }
-        due("16 the day itself", x.clash(0, 1, 0), 0);
-        due("16 a later one", x.clash(0, 1, 1), 14);
-        due("16 behind the last", x.clash(0, 1, 715), NO_DAY);
-        due("16 with itself", x.clash(2, 2, 11), 11);
-        due("16 none", x.clash(1, 2, 0), NO_DAY);
-        due("16 with one that has none", x.clash(0, 9, 0), NO_DAY);
+        T.test("Promise 16, the first DAY from one on that both have", THREE + """
+            clash(0, 1, 0) -> 0
+            clash(0, 1, 1) clash(1, 0, 14) -> 14
+            clash(0, 1, 15) -> 210
+            clash(2, 2, 11) -> 11
+            clash(2, 2, 0) -> 10
+            """);
+        T.test("Promise 16, from the last DAY on", "extra(0, 719) extra(1, 719)\nclash(0, 1, 0) clash(0, 1, 719) -> 719");
+        T.test("Promise 16, -5", THREE
+            + "clash(0, 1, 715) clash(1, 2, 0) clash(0, 9, 0) clash(9, 0, 0) clash(8, 9, 0) clash(2, 2, 13) -> -5");
+        T.test("Promise 16, NONE: either", """
+            clash(-1, 0, 0) clash(10, 0, 0) clash(MIN, 0, 0) clash(MAX, 0, 0) -> NONE
+            clash(0, -1, 0) clash(0, 10, 0) clash(0, MIN, 0) clash(0, MAX, 0) -> NONE
+            """);
+        T.test("Promise 16, BAD", THREE + "clash(0, 1, -1) clash(0, 1, 720) clash(0, 0, MIN) clash(0, 0, MAX) -> BAD");
     }
 
     private static void unlike() {
-        RecurringDays x = three();
-        for (int name : NO_NAMES) {
-            due("17 unlike(" + name + ", 0)", x.unlike(name, 0), NONE);
-            due("17 unlike(0, " + name + ")", x.unlike(0, name), NONE);
-        }
-        due("17 unlike(0, 1)", x.unlike(0, 1), 7);
-        due("17 unlike(1, 0)", x.unlike(1, 0), 7);
-        due("17 with itself", x.unlike(0, 0), NO_DAY);
-        due("17 without a rule", x.unlike(8, 9), NO_DAY);
-        due("17 with none", x.unlike(2, 9), 10);
-        due("17 the first day", x.unlike(0, 9), 0);
-        x.copy(0, 9);
-        due("17 the same", x.unlike(0, 9), NO_DAY);
-        x.extra(9, 719);
-        due("17 the last day", x.unlike(0, 9), 719);
+        T.test("Promise 17, the first DAY that only one of them has", THREE + """
+            unlike(0, 1) unlike(1, 0) -> 7
+            unlike(2, 9) unlike(9, 2) -> 10
+            unlike(0, 9) -> 0
+            """);
+        T.test("Promise 17, the last DAY", THREE + "copy(0, 9) -> 103\nextra(9, 719)\nunlike(0, 9) unlike(9, 0) -> 719");
+        T.test("Promise 17, -5", THREE + """
+            unlike(0, 0) unlike(8, 9) -> -5
+            copy(2, 9)
+            unlike(2, 9) -> -5
+            extra(9, 1)
+            unlike(2, 9) -> 1
+            out(9, 1)
+            unlike(2, 9) -> -5
+            """);
+        T.test("Promise 17, NONE: either", """
+            unlike(-1, 0) unlike(10, 0) unlike(MIN, 0) unlike(MAX, 0) -> NONE
+            unlike(0, -1) unlike(0, 10) unlike(0, MIN) unlike(0, MAX) -> NONE
+            """);
     }
 
     private static void merged() {
-        RecurringDays x = three();
-        for (int set : NO_SETS) {
-            due("18 merged(" + set + ", 0)", x.merged(set, 0), BAD);
-            due("18 BAD is named before NONE", x.merged(set, -2), BAD);
-        }
-        due("18 i below -1", x.merged(1, -2), NONE);
-        due("18 i far below", x.merged(1, LOW), NONE);
-        due("18 of no name", x.merged(0, -1), 0);
-        due("18 of no name, the first", x.merged(0, 0), NO_DAY);
-        due("18 without doubles", x.merged(3, -1), 103 + 48 - both(x));
-        due("18 all", x.merged(1023, 0), 0);
-        due("18 in order, 1", x.merged(6, 1), 10);
-        due("18 in order, 2", x.merged(6, 4), 14);
-        due("18 the last", x.merged(4, 2), 12);
-        due("18 behind the last", x.merged(4, 3), NO_DAY);
-        due("18 far behind", x.merged(4, HIGH), NO_DAY);
-        x.extra(9, 719);
-        due("18 an extra day of J", x.merged(512, 0), 719);
-        due("18 its place in the set", x.merged(516, 3), 719);
-    }
-
-    private static int both(RecurringDays x) {
-        int both = 0;
-        for (int day = x.clash(0, 1, 0); day >= 0; day = day == 719 ? -1 : x.clash(0, 1, day + 1)) {
-            both++;
-        }
-        return both;
+        T.test("Promise 18, the i-th DAY of MERGED", THREE + """
+            merged(7, 0) -> 0
+            merged(7, 1) -> 7
+            merged(7, 2) -> 10
+            merged(6, 1) -> 10
+            merged(6, 4) -> 14
+            merged(4, 2) -> 12
+            extra(9, 719)
+            merged(516, 3) -> 719
+            """);
+        T.test("Promise 18, i -1: how many there are", THREE + """
+            merged(1, -1) -> 103
+            merged(3, -1) -> 143
+            merged(4, -1) -> 3
+            merged(0, -1) merged(512, -1) -> 0
+            rule(9, "e1,0")
+            merged(1023, -1) -> 720
+            merged(512, 719) -> 719
+            """);
+        T.test("Promise 18, -5", THREE + """
+            merged(4, 3) merged(4, MAX) merged(0, 0) merged(512, 0) merged(1, 103) -> -5
+            rule(9, "e1,0")
+            merged(512, 720) -> -5
+            """);
+        T.test("Promise 18, BAD: set (0 .. 1023)", THREE + """
+            merged(-1, 0) merged(1024, 0) merged(MIN, -1) merged(MAX, -1) -> BAD
+            merged(1023, 0) -> 0
+            """);
+        T.test("Promise 18, NONE: i below -1", THREE + "merged(1, -2) merged(1, MIN) merged(0, -2) -> NONE");
     }
 
     private static void whose() {
-        RecurringDays x = three();
-        for (int set : NO_SETS) {
-            due("19 whose(" + set + ", 0)", x.whose(set, 0), BAD);
-            due("19 BAD is named before NONE", x.whose(set, -1), BAD);
-        }
-        due("19 i below 0", x.whose(1, -1), NONE);
-        due("19 i far below", x.whose(1, LOW), NONE);
-        due("19 of two", x.whose(1023, 0), 3);
-        due("19 of the set alone", x.whose(1, 0), 1);
-        due("19 of one", x.whose(1023, 1), 1);
-        due("19 of another", x.whose(1023, 2), 4);
-        due("19 there is none", x.whose(4, 3), 0);
-        due("19 there is none far behind", x.whose(4, HIGH), 0);
-        due("19 of no name", x.whose(0, 0), 0);
-        x.extra(9, 11);
-        due("19 J is the highest bit", x.whose(516, 1), 516);
-        x.extra(9, 719);
-        due("19 the last day", x.whose(512, 1), 512);
+        T.test("Promise 19, WHOSE the i-th DAY of MERGED is (bits)", THREE + """
+            whose(1023, 0) -> 3
+            whose(1023, 1) whose(1, 0) -> 1
+            whose(1023, 2) -> 4
+            whose(2, 0) -> 2
+            extra(9, 11)
+            whose(516, 1) -> 516
+            extra(9, 719)
+            whose(512, 1) -> 512
+            """);
+        T.test("Promise 19, 0: there is none", THREE + "whose(4, 3) whose(4, MAX) whose(0, 0) whose(512, 0) whose(1, 103) -> 0");
+        T.test("Promise 19, BAD: set", THREE + "whose(-1, 0) whose(1024, 0) whose(MIN, 0) whose(MAX, 0) -> BAD\nwhose(1023, 0) -> 3");
+        T.test("Promise 19, NONE: i below 0", THREE + "whose(1, -1) whose(1, MIN) whose(0, -1) -> NONE");
     }
 
     private static void busiest() {
-        RecurringDays x = three();
-        for (int day : NO_DAYS) {
-            due("20 busiest(" + day + ", 719, 0)", x.busiest(day, 719, 0), BAD);
-            due("20 busiest(0, " + day + ", 0)", x.busiest(0, day, 0), BAD);
-            due("20 BAD is named before NONE", x.busiest(0, day, 2), BAD);
-        }
-        due("20 to is below from", x.busiest(5, 4, 0), BAD);
-        due("20 what 2", x.busiest(0, 719, 2), NONE);
-        due("20 what -1", x.busiest(0, 719, -1), NONE);
-        due("20 the least of several", x.busiest(0, 719, 0), 0);
-        due("20 how many", x.busiest(0, 719, 1), 2);
-        due("20 from one on", x.busiest(1, 719, 0), 14);
-        due("20 up to one", x.busiest(1, 13, 0), 7);
-        due("20 how many", x.busiest(1, 13, 1), 1);
-        due("20 nobody's span", x.busiest(1, 6, 0), NO_DAY);
-        due("20 nobody's span, how many", x.busiest(1, 6, 1), 0);
-        due("20 both ends count", x.busiest(14, 14, 1), 2);
-        x.extra(7, 11);
-        x.extra(8, 11);
-        due("20 the most", x.busiest(0, 719, 0), 11);
-        due("20 the most, how many", x.busiest(0, 719, 1), 3);
+        T.test("Promise 20, BUSIEST: which (what 0)", THREE + """
+            busiest(0, 719, 0) busiest(0, 0, 0) -> 0
+            busiest(1, 719, 0) -> 14
+            busiest(1, 13, 0) -> 7
+            extra(9, 719)
+            busiest(719, 719, 0) busiest(715, 719, 0) -> 719
+            """);
+        T.test("Promise 20, BUSIEST: which: -5", THREE + "busiest(1, 6, 0) busiest(719, 719, 0) -> -5");
+        T.test("Promise 20, BUSIEST: how many (1)", THREE + """
+            busiest(0, 719, 1) -> 2
+            busiest(1, 13, 1) -> 1
+            extra(9, 0)
+            busiest(0, 719, 1) -> 3
+            """);
+        T.test("Promise 20, BUSIEST: how many: 0", THREE + "busiest(1, 6, 1) busiest(719, 719, 1) -> 0");
+        T.test("Promise 20, BAD: from", """
+            busiest(-1, 719, 0) busiest(720, 720, 0) busiest(MIN, 719, 1) busiest(MAX, MAX, 1) busiest(-1, -1, 0) -> BAD
+            """);
+        T.test("Promise 20, BAD: to", """
+            busiest(0, 720, 0) busiest(719, 720, 1) busiest(0, MAX, 0) busiest(0, -1, 0) busiest(0, MIN, 1) -> BAD
+            """);
+        T.test("Promise 20, BAD: to is below from", "busiest(5, 4, 0) busiest(1, 0, 1) busiest(719, 718, 0) -> BAD");
+        T.test("Promise 20, NONE: what", THREE
+            + "busiest(0, 719, 2) busiest(0, 719, -1) busiest(0, 719, MIN) busiest(0, 719, MAX) -> NONE");
     }
 
     private static void free() {
-        RecurringDays x = three();
-        for (int set : NO_SETS) {
-            due("21 free(" + set + ", 0, 1)", x.free(set, 0, 1), BAD);
-        }
-        for (int day : NO_DAYS) {
-            due("21 free(1, " + day + ", 1)", x.free(1, day, 1), BAD);
-        }
-        for (int n : new int[] {0, -1, 100, LOW, HIGH}) {
-            due("21 free(1, 0, " + n + ")", x.free(1, 0, n), BAD);
-        }
-        due("21 one day", x.free(1, 0, 1), 1);
-        due("21 all six", x.free(1, 0, 6), 1);
-        due("21 from the second on", x.free(1, 2, 6), 8);
-        due("21 seven are none", x.free(1, 0, 7), NO_DAY);
-        due("21 of two names", x.free(5, 8, 3), 15);
-        due("21 of no name", x.free(0, 621, 99), 621);
-        due("21 beyond the end", x.free(0, 622, 99), NO_DAY);
-        due("21 the last day", x.free(0, 719, 1), 719);
-        due("21 up to the last day", x.free(1, 715, 5), 715);
-        due("21 one too many", x.free(1, 715, 6), NO_DAY);
+        T.test("Promise 21, the first DAY from one on with which n DAYS begin that none has", THREE + """
+            free(1, 0, 1) free(1, 0, 6) free(1, 1, 6) -> 1
+            free(1, 2, 6) -> 8
+            free(1, 2, 5) -> 2
+            free(5, 8, 1) -> 8
+            free(5, 8, 3) -> 15
+            """);
+        T.test("Promise 21, n DAYS (1 .. 99)", THREE + """
+            free(0, 0, 1) free(0, 0, 99) -> 0
+            rule(3, "r0,9|r108,109|r209,719")
+            free(8, 0, 99) -> 110
+            free(8, 0, 98) -> 10
+            free(8, 0, 1) -> 10
+            """);
+        T.test("Promise 21, one behind the other: up to DAY 719 and no further", THREE + """
+            free(0, 621, 99) -> 621
+            free(0, 622, 99) -> -5
+            free(1, 715, 5) -> 715
+            free(1, 715, 6) free(1, 719, 2) -> -5
+            free(0, 719, 1) free(1, 719, 1) -> 719
+            """);
+        T.test("Promise 21, of a set of NAMES (bits)", THREE + """
+            free(2, 0, 2) -> 1
+            free(7, 8, 2) free(5, 8, 2) -> 8
+            free(4, 10, 1) -> 13
+            extra(9, 13)
+            free(516, 10, 1) -> 14
+            free(512, 10, 3) -> 10
+            free(512, 10, 4) -> 14
+            """);
+        T.test("Promise 21, -5", THREE + """
+            free(1, 0, 7) -> -5
+            rule(9, "e1,0")
+            free(512, 0, 1) free(1023, 0, 1) -> -5
+            out(9, 719)
+            free(512, 0, 1) -> 719
+            """);
+        T.test("Promise 21, BAD: set", "free(-1, 0, 1) free(1024, 0, 1) free(MIN, 0, 1) free(MAX, 0, 1) -> BAD\nfree(1023, 0, 1) -> 0");
+        T.test("Promise 21, BAD: day", "free(1, -1, 1) free(1, 720, 1) free(0, MIN, 1) free(0, MAX, 1) -> BAD");
+        T.test("Promise 21, BAD: n", "free(1, 0, 0) free(1, 0, -1) free(1, 0, 100) free(1, 0, MIN) free(0, 0, MAX) -> BAD");
     }
 
     private static void parts() {
-        RecurringDays x = three();
-        for (int name : NO_NAMES) {
-            due("22 parts(" + name + ", 0, 0)", x.parts(name, 0, 0), NONE);
-        }
-        for (int block : new int[] {-1, 3, LOW, HIGH}) {
-            due("22 parts(0, " + block + ", 0)", x.parts(0, block, 0), NONE);
-        }
-        int[] last = {102, 23, 1};
-        for (int block = 0; block < 3; block++) {
-            for (int i : new int[] {-1, last[block] + 1, LOW, HIGH, 1 << 30, 613566757, 143165577}) {
-                due("22 parts(0, " + block + ", " + i + ")", x.parts(0, block, i), NONE);
-            }
-        }
-        due("22 a week", x.parts(2, 0, 1), 3);
-        due("22 the next week", x.parts(2, 0, 2), 0);
-        due("22 the last week", x.parts(0, 0, 102), 1);
-        Checks.rule(x, 3, "r0,719");
-        due("22 the last week has six days", x.parts(3, 0, 102), 6);
-        due("22 a week has seven", x.parts(3, 0, 101), 7);
-        due("22 a month", x.parts(3, 1, 23), 30);
-        due("22 a year", x.parts(3, 2, 1), 360);
-        due("22 a month's days", x.parts(1, 1, 5), 2);
-        due("22 a year's days", x.parts(1, 2, 0), 24);
+        T.test("Promise 22, how many of its DAYS are in the i-th week (block 0)", THREE + """
+            parts(2, 0, 1) -> 3
+            parts(2, 0, 0) parts(2, 0, 2) parts(9, 0, 0) -> 0
+            parts(0, 0, 102) parts(1, 0, 0) -> 1
+            """);
+        T.test("Promise 22, how many of its DAYS are in the i-th month (block 1)", THREE + """
+            parts(1, 1, 0) parts(1, 1, 23) -> 2
+            parts(0, 1, 0) -> 5
+            parts(0, 1, 2) parts(0, 1, 23) -> 4
+            parts(2, 1, 1) -> 0
+            """);
+        T.test("Promise 22, how many of its DAYS are in the i-th year (block 2)", THREE + """
+            parts(1, 2, 0) parts(1, 2, 1) -> 24
+            parts(0, 2, 0) -> 52
+            parts(0, 2, 1) -> 51
+            parts(2, 2, 1) -> 0
+            """);
+        T.test("Promise 22, NONE: name", "parts(-1, 0, 0) parts(10, 0, 0) parts(MIN, 0, 0) parts(MAX, 0, 0) -> NONE");
+        T.test("Promise 22, NONE: block", "parts(0, -1, 0) parts(0, 3, 0) parts(0, MIN, 0) parts(0, MAX, 0) -> NONE");
+        T.test("Promise 22, NONE: i of weeks (0 .. 102)", """
+            parts(0, 0, -1) parts(0, 0, 103) parts(0, 0, MIN) parts(0, 0, MAX) parts(0, 0, 613566757) -> NONE
+            parts(0, 0, 1073741824) -> NONE
+            parts(0, 0, 0) parts(0, 0, 102) -> 0
+            """);
+        T.test("Promise 22, NONE: i of months (0 .. 23)", """
+            parts(0, 1, -1) parts(0, 1, 24) parts(0, 1, 102) parts(0, 1, MIN) parts(0, 1, MAX) parts(0, 1, 143165577) -> NONE
+            parts(0, 1, 0) parts(0, 1, 23) -> 0
+            """);
+        T.test("Promise 22, NONE: i of years (0 .. 1)", """
+            parts(0, 2, -1) parts(0, 2, 2) parts(0, 2, 23) parts(0, 2, MIN) parts(0, 2, MAX) parts(0, 2, 536870912) -> NONE
+            parts(0, 2, 0) parts(0, 2, 1) -> 0
+            """);
     }
 
     private static void nth() {
-        RecurringDays x = three();
-        for (int name : NO_NAMES) {
-            due("23 nth(" + name + ", 0, 0, 0)", x.nth(name, 0, 0, 0), NONE);
-            due("23 NONE is named before BAD", x.nth(name, 0, 0, -1), NONE);
-        }
-        for (int block : new int[] {-1, 3, LOW, HIGH}) {
-            due("23 nth(0, " + block + ", 0, 0)", x.nth(0, block, 0, 0), NONE);
-            due("23 NONE is named before BAD", x.nth(0, block, 0, 720), NONE);
-        }
-        for (int day : NO_DAYS) {
-            due("23 nth(0, 0, 0, " + day + ")", x.nth(0, 0, 0, day), BAD);
-        }
-        due("23 the first of a month", x.nth(0, 1, 0, 59), 35);
-        due("23 the second", x.nth(0, 1, 1, 30), 42);
-        due("23 the last", x.nth(0, 1, -1, 30), 56);
-        due("23 the last but three", x.nth(0, 1, -4, 30), 35);
-        due("23 beyond", x.nth(0, 1, 4, 30), NO_DAY);
-        due("23 beyond from the end", x.nth(0, 1, -5, 30), NO_DAY);
-        due("23 far beyond", x.nth(0, 1, HIGH, 30), NO_DAY);
-        due("23 far beyond from the end", x.nth(0, 1, LOW, 30), NO_DAY);
-        due("23 of a week", x.nth(2, 0, 2, 8), 12);
-        due("23 of the last week", x.nth(0, 0, -1, 719), 714);
-        due("23 of a year", x.nth(0, 2, 0, 719), 364);
-        due("23 of the first year", x.nth(0, 2, -1, 0), 357);
+        T.test("Promise 23, the k-th (0 the first) of its DAYS in the BLOCK of a DAY", THREE + """
+            nth(2, 0, 0, 7) nth(2, 0, 0, 13) nth(2, 1, 0, 29) nth(2, 2, 0, 359) -> 10
+            nth(2, 0, 2, 8) nth(2, 1, 2, 0) -> 12
+            nth(0, 1, 0, 59) -> 35
+            nth(0, 1, 1, 30) -> 42
+            nth(0, 2, 0, 719) -> 364
+            nth(0, 0, 0, 719) -> 714
+            """);
+        T.test("Promise 23, the k-th below 0 from the end", THREE + """
+            nth(2, 0, -1, 7) nth(2, 1, -1, 0) nth(2, 2, -1, 0) -> 12
+            nth(2, 0, -3, 13) -> 10
+            nth(0, 1, -1, 30) -> 56
+            nth(0, 1, -4, 30) -> 35
+            nth(0, 2, -1, 0) -> 357
+            nth(0, 2, -52, 0) -> 0
+            nth(0, 0, -1, 719) -> 714
+            """);
+        T.test("Promise 23, -5", THREE + """
+            nth(2, 0, 3, 7) nth(2, 0, -4, 7) nth(2, 0, 0, 6) nth(2, 0, -1, 14) nth(9, 2, 0, 0) -> -5
+            nth(0, 1, 4, 30) nth(0, 1, -5, 30) nth(0, 1, MAX, 30) nth(0, 1, MIN, 30) nth(0, 2, 52, 0) nth(0, 2, -53, 0) -> -5
+            """);
+        T.test("Promise 23, NONE: name", "nth(-1, 0, 0, 0) nth(10, 0, 0, 0) nth(MIN, 0, 0, 0) nth(MAX, 0, 0, 0) -> NONE");
+        T.test("Promise 23, NONE: block", "nth(0, -1, 0, 0) nth(0, 3, 0, 0) nth(0, MIN, 0, 0) nth(0, MAX, 0, 0) -> NONE");
+        T.test("Promise 23, BAD: day", "nth(0, 0, 0, -1) nth(0, 0, 0, 720) nth(0, 1, 0, MIN) nth(0, 2, 0, MAX) -> BAD");
     }
 
     private static void told() {
-        RecurringDays x = three();
-        for (int what : new int[] {-1, 7, LOW, HIGH}) {
-            due("24 told(" + what + ")", x.told(what), NONE);
-        }
-        x.out(0, 1);
-        x.out(9, 1);
-        x.extra(3, 1);
-        x.extra(4, 1);
-        x.extra(4, 2);
-        x.count(0, 0, 1);
-        x.count(0, 0, 1);
-        x.count(0, 0, 2);
-        x.count(0, 0, 3);
-        x.drop(2);
-        due("24 remembered", x.told(3), 3);
-        Checks.tape(x, "w0|w");
-        x.out(0, 719);
-        x.out(9, 2);
-        due("24 rules", x.told(0), 2);
-        due("24 hits", x.told(1), 1);
-        due("24 misses", x.told(2), 3);
-        due("24 the tape", x.told(4), 4);
-        due("24 out", x.told(5), 4);
-        due("24 extra", x.told(6), 3);
+        T.test("Promise 24, what 0 how many NAMES have a RULE", THREE + """
+            extra(8, 1)
+            told(0) -> 3
+            rule(9, "w0&w1")
+            told(0) -> 4
+            rule(9, "w7")
+            told(0) -> 4
+            drop(0)
+            told(0) -> 3
+            """
+            + each(0, 9, name -> "copy(1, " + name + ") -> 48") + "told(0) -> 10");
+        T.test("Promise 24, what 1 HITS and 2 MISSES", THREE + """
+            count(0, 0, 1) count(0, 0, 1) count(0, 0, 2) count(0, 0, 1) count(0, 1, 0)
+            told(1) told(2) -> 2
+            count(0, 0, 3)
+            told(1) -> 2
+            told(2) -> 3
+            """);
+        T.test("Promise 24, what 3 how many SPANS are REMEMBERED", THREE + "told(3) -> 0\n" + each(1, 6, i -> "count(0, 1, " + i
+            + ") -> 0\ntold(3) -> " + i) + """
+            count(1, 1, 7)
+            told(3) -> 6
+            drop(0)
+            told(3) -> 1
+            """);
+        T.test("Promise 24, what 4 bytes of THE TAPE", "told(4) -> 0\ntape(\"w0|w\")\ntold(4) -> 4\nclear()\ntold(4) -> 0");
+        T.test("Promise 24, what 5 DAYS OUT of all NAMES", """
+            out(0, 1) out(9, 1) out(0, 719)
+            told(5) -> 3
+            out(9, 1)
+            told(5) -> 2
+            told(6) -> 0
+            """);
+        T.test("Promise 24, what 5 DAYS OUT of all NAMES: 70 at most", each(0, 69, i -> "out(" + i / 7 + ", " + i % 7 + ") -> "
+            + (i % 7 + 1)) + "told(5) -> 70\ntold(6) -> 0");
+        T.test("Promise 24, what 6 EXTRA ones", """
+            extra(3, 1) extra(9, 1) extra(4, 2) extra(4, 3)
+            told(6) -> 4
+            extra(3, 1)
+            told(6) -> 3
+            told(5) -> 0
+            """);
+        T.test("Promise 24, what 6 EXTRA ones: 70 at most", each(0, 69, i -> "extra(" + i / 7 + ", " + i % 7 + ") -> " + (i % 7 + 1))
+            + "told(6) -> 70\ntold(5) -> 0");
+        T.test("Promise 24, NONE", "told(-1) told(7) told(MIN) told(MAX) -> NONE");
     }
 
     private static void remembered() {
-        RecurringDays x = three();
-        due("25 nothing", x.remembered(0, 0), NONE);
-        x.count(0, 7, 14);
-        x.count(2, 11, 719);
-        due("25 the eldest's name", x.remembered(0, 0), 0);
-        due("25 from", x.remembered(0, 1), 7);
-        due("25 to", x.remembered(0, 2), 14);
-        due("25 how many", x.remembered(0, 3), 2);
-        due("25 the next one's name", x.remembered(1, 0), 2);
-        due("25 from", x.remembered(1, 1), 11);
-        due("25 to", x.remembered(1, 2), 719);
-        due("25 how many", x.remembered(1, 3), 2);
-        for (int i : new int[] {-1, 2, 6, LOW, HIGH}) {
-            due("25 remembered(" + i + ", 0)", x.remembered(i, 0), NONE);
-        }
-        for (int what : new int[] {-1, 4, LOW, HIGH}) {
-            due("25 remembered(0, " + what + ")", x.remembered(0, what), NONE);
-        }
+        String two = THREE + "count(0, 7, 14) -> 2\ncount(2, 11, 719) -> 2\n";
+        T.test("Promise 25, of the i-th SPAN that is REMEMBERED (0 the eldest) what 0 its NAME", two
+            + "remembered(0, 0) -> 0\nremembered(1, 0) -> 2");
+        T.test("Promise 25, what 1 and 2 its DAYS", two + """
+            remembered(0, 1) -> 7
+            remembered(0, 2) -> 14
+            remembered(1, 1) -> 11
+            remembered(1, 2) -> 719
+            """);
+        T.test("Promise 25, what 3 how many", two + """
+            remembered(0, 3) remembered(1, 3) -> 2
+            count(0, 0, 719) -> 103
+            remembered(2, 3) -> 103
+            count(9, 0, 719)
+            remembered(3, 3) -> 0
+            """);
+        T.test("Promise 25, NONE: i", "remembered(0, 0) -> NONE\n" + two
+            + "remembered(-1, 0) remembered(2, 0) remembered(5, 0) remembered(6, 0) remembered(MIN, 0) remembered(MAX, 0) -> NONE");
+        T.test("Promise 25, NONE: i behind 6", each(0, 5, i -> "count(0, 0, " + i + ") -> 0") + """
+            remembered(5, 2) -> 5
+            remembered(6, 2) -> NONE
+            count(0, 0, 6)
+            remembered(5, 2) -> 6
+            remembered(6, 2) -> NONE
+            """);
+        T.test("Promise 25, NONE: what", two + "remembered(0, -1) remembered(0, 4) remembered(1, MIN) remembered(1, MAX) -> NONE");
     }
 
     private static void list() {
-        RecurringDays x = new RecurringDays();
-        for (int list : NO_LISTS) {
-            due("26 list(" + list + ", 1)", x.list(list, 1), NONE);
-            due("26 NONE is named before BAD", x.list(list, 31), NONE);
-            due("26 NONE is named before BELOW", x.list(list, -1), NONE);
-        }
-        due("26 n above 30", x.list(0, 31), BAD);
-        due("26 n far above 30", x.list(0, HIGH), BAD);
-        due("26 a size below 0", x.list(0, -1), BELOW);
-        due("26 a size far below 0", x.list(0, LOW), BELOW);
-        due("26 nothing is held yet", x.put(0, 0, 1), NOTHING);
-        due("26 thirty", x.list(0, 30), 1);
-        due("26 the last place is 0", x.get(0, 29), 0);
-        x.put(0, 1, 5);
-        due("26 anew", x.list(0, 2), 1);
-        due("26 it is 0 again", x.get(0, 1), 0);
-        due("26 it is shorter", x.get(0, 2), NO_PLACE);
-        x.put(0, 0, 5);
-        x.list(0, 1);
-        due("26 the first place is 0 again", x.get(0, 0), 0);
-        x.list(0, 2);
-        due("26 none", x.list(3, 0), 1);
-        due("26 a row of none is held", x.put(3, 0, 1), BEYOND);
-        x.put(0, 1, 6);
-        due("26 refused", x.list(0, 31), BAD);
-        due("26 what is refused changes nothing", x.get(0, 1), 6);
+        T.test("Promise 26, a LIST becomes a row of n ints: 1", """
+            list(0, 2) -> 1
+            get(0, 1) -> 0
+            get(0, 2) -> NO_PLACE
+            list(0, 4) -> 1
+            get(0, 3) -> 0
+            get(0, 4) -> NO_PLACE
+            list(0, 1) -> 1
+            get(0, 1) -> NO_PLACE
+            """);
+        T.test("Promise 26, all 0", "list(3, 30)\n" + each(0, 29, i -> "get(3, " + i + ") -> 0\nput(3, " + i + ", 7)") + """
+            list(3, 2)
+            list(3, 30) -> 1
+            """ + each(0, 29, i -> "get(3, " + i + ") -> 0"));
+        T.test("Promise 26, a row of none, and of 30", """
+            list(0, 0) list(1, 30) -> 1
+            put(0, 0, 1) -> BEYOND
+            put(1, 29, 1) -> 1
+            put(1, 30, 1) -> BEYOND
+            """);
+        T.test("Promise 26, NONE: list", "list(-1, 1) list(4, 1) list(MIN, 1) list(MAX, 1) -> NONE");
+        T.test("Promise 26, BAD: n above 30", "list(0, 31) list(0, 32) list(0, MAX) -> BAD\nput(0, 0, 1) -> NOTHING");
+        T.test("Promise 26, BELOW", "list(0, -1) list(0, -2) list(0, MIN) -> BELOW\nput(0, 0, 1) -> NOTHING");
     }
 
     private static void put() {
-        RecurringDays x = new RecurringDays();
-        x.list(1, 3);
-        for (int list : NO_LISTS) {
-            due("27 put(" + list + ", 0, 1)", x.put(list, 0, 1), NONE);
-        }
-        due("27 nothing", x.put(0, 0, 1), NOTHING);
-        due("27 NOTHING is named before BEYOND", x.put(0, -1, 1), NOTHING);
-        for (int i : new int[] {-1, 3, 30, LOW, HIGH}) {
-            due("27 put(1, " + i + ", 1)", x.put(1, i, 1), BEYOND);
-        }
-        due("27 put", x.put(1, 2, LOW), 1);
-        due("27 it is there", x.get(1, 2), LOW);
-        due("27 and nowhere else", x.get(1, 1), 0);
+        T.test("Promise 27, place i of a LIST becomes v: 1", LISTS + "put(0, 0, 8) put(0, 4, -9) put(0, 2, MIN) -> 1\n"
+            + holds(0, 8, 2, Integer.MIN_VALUE, 4, -9) + holds(1, 0, 0, 0));
+        T.test("Promise 27, NONE", LISTS + "put(-1, 0, 1) put(4, 0, 1) put(MIN, 0, 1) put(MAX, 0, 1) -> NONE");
+        T.test("Promise 27, NOTHING", LISTS + "put(3, 0, 1) -> NOTHING\nget(3, 0) -> NO_PLACE");
+        T.test("Promise 27, BEYOND", LISTS + """
+            put(0, -1, 9) put(0, 5, 9) put(0, 30, 9) put(0, MIN, 9) put(0, MAX, 9) put(2, 0, 9) -> BEYOND
+            """ + holds(0, 1, 2, 3, 4, 5));
     }
 
     private static void get() {
-        RecurringDays x = new RecurringDays();
-        x.list(2, 2);
-        x.put(2, 0, 7);
-        x.put(2, 1, -9);
-        due("28 get(2, 0)", x.get(2, 0), 7);
-        due("28 get(2, 1)", x.get(2, 1), -9);
-        due("28 nothing there", x.get(1, 0), NO_PLACE);
-        for (int list : NO_LISTS) {
-            due("28 get(" + list + ", 0)", x.get(list, 0), NO_PLACE);
-        }
-        for (int i : new int[] {-1, 2, 30, LOW, HIGH}) {
-            due("28 get(2, " + i + ")", x.get(2, i), NO_PLACE);
-        }
-    }
-
-    /** List 0 holds 1 to 5, list 1 three zeros, list 2 none, list 3 nothing. */
-    private static RecurringDays lists() {
-        RecurringDays x = new RecurringDays();
-        x.list(0, 5);
-        for (int i = 0; i < 5; i++) {
-            x.put(0, i, i + 1);
-        }
-        x.list(1, 3);
-        x.list(2, 0);
-        return x;
-    }
-
-    private static int shown(RecurringDays x, int list, int n) {
-        int shown = 0;
-        for (int i = 0; i < n; i++) {
-            shown = shown * 10 + x.get(list, i);
-        }
-        return shown;
+        T.test("Promise 28, place i of a LIST", LISTS + holds(0, 1, 2, 3, 4, 5) + holds(1, 0, 0, 0));
+        T.test("Promise 28, -2000000000: no such LIST", LISTS + "get(-1, 0) get(4, 0) get(MIN, 0) get(MAX, 0) -> -2000000000");
+        T.test("Promise 28, -2000000000: nothing there", LISTS + "get(3, 0) get(3, -1) -> -2000000000");
+        T.test("Promise 28, -2000000000: no such place", LISTS
+            + "get(0, -1) get(0, 5) get(0, 30) get(0, MIN) get(0, MAX) get(2, 0) -> -2000000000");
     }
 
     private static void move() {
-        RecurringDays x = lists();
-        for (int list : NO_LISTS) {
-            due("29 move(" + list + ", ..)", x.move(list, 0, 0, 0, 1), NONE);
-            due("29 move(0, 0, " + list + ", ..)", x.move(0, 0, list, 0, 1), NONE);
-            due("29 NONE is named before NOTHING", x.move(3, 0, list, 0, 1), NONE);
-        }
-        due("29 nothing in the first", x.move(3, 0, 0, 0, 1), NOTHING);
-        due("29 nothing in the other", x.move(0, 0, 3, 0, 1), NOTHING);
-        due("29 NOTHING is named before BEYOND", x.move(0, -1, 3, 0, 1), NOTHING);
-        int[][] beyond = {{-1, 0, 1}, {0, -1, 1}, {0, 0, -1}, {5, 0, 1}, {3, 0, 3}, {0, 3, 1}, {0, 1, 3}, {6, 0, 0}, {0, 4, 0},
-            {HIGH, 0, 1}, {0, HIGH, 1}, {0, 0, HIGH}, {HIGH, HIGH, HIGH}, {1, 1, HIGH}, {LOW, 0, LOW}, {0, 0, LOW}};
-        for (int[] b : beyond) {
-            due("29 move(0, " + b[0] + ", 1, " + b[1] + ", " + b[2] + ")", x.move(0, b[0], 1, b[1], b[2]), BEYOND);
-        }
-        due("29 nothing has moved", shown(x, 1, 3), 0);
-        due("29 to another", x.move(0, 2, 1, 1, 2), 2);
-        due("29 it is there", shown(x, 1, 3), 34);
-        due("29 the first stays", shown(x, 0, 5), 12345);
-        due("29 none at the ends", x.move(0, 5, 1, 3, 0), 0);
-        due("29 none of none", x.move(2, 0, 2, 0, 0), 0);
-        due("29 one of none", x.move(2, 0, 0, 0, 1), BEYOND);
-        due("29 to the same, later", x.move(0, 0, 0, 1, 4), 4);
-        due("29 as they all were before", shown(x, 0, 5), 11234);
-        x = lists();
-        due("29 to the same, earlier", x.move(0, 1, 0, 0, 4), 4);
-        due("29 as they all were before", shown(x, 0, 5), 23455);
+        T.test("Promise 29, n places of a LIST from i on come to another one from j on: n", LISTS + "move(0, 2, 1, 1, 2) -> 2\n"
+            + holds(1, 0, 3, 4) + holds(0, 1, 2, 3, 4, 5)
+            + "move(0, 0, 1, 0, 3) -> 3\n" + holds(1, 1, 2, 3) + "put(1, 0, 9)\nmove(1, 0, 0, 4, 1) -> 1\n" + holds(0, 1, 2, 3, 4, 9));
+        T.test("Promise 29, all of a row of 30", "list(0, 30) list(3, 30)\n" + each(0, 29, i -> "put(0, " + i + ", " + (i - 7)
+            + ") -> 1") + "move(0, 0, 3, 0, 30) -> 30\n"
+            + each(0, 29, i -> "get(3, " + i + ") -> " + (i - 7)));
+        T.test("Promise 29, or the same, as they all were before: to later places", LISTS + "move(0, 0, 0, 1, 4) -> 4\n"
+            + holds(0, 1, 1, 2, 3, 4));
+        T.test("Promise 29, or the same, as they all were before: to earlier places", LISTS + "move(0, 1, 0, 0, 4) -> 4\n"
+            + holds(0, 2, 3, 4, 5, 5) + "move(0, 0, 0, 0, 5) -> 5\n" + holds(0, 2, 3, 4, 5, 5));
+        T.test("Promise 29, n 0: no place, also at the ends", LISTS + """
+            move(0, 0, 1, 0, 0) move(0, 5, 1, 3, 0) move(2, 0, 2, 0, 0) move(2, 0, 0, 5, 0) -> 0
+            """ + holds(0, 1, 2, 3, 4, 5));
+        T.test("Promise 29, NONE: lists", LISTS
+            + """
+            move(-1, 0, 0, 0, 1) move(4, 0, 0, 0, 1) move(MIN, 0, 0, 0, 1) move(MAX, 0, 0, 0, 1) -> NONE
+            move(0, 0, -1, 0, 1) move(0, 0, 4, 0, 1) move(0, 0, MIN, 0, 1) move(0, 0, MAX, 0, 1) -> NONE
+            """);
+        T.test("Promise 29, NOTHING: in either", LISTS + "move(3, 0, 0, 0, 1) move(0, 0, 3, 0, 1) move(3, 0, 3, 0, 0) -> NOTHING");
+        T.test("Promise 29, BEYOND: n, i or j is below 0", LISTS + """
+            move(0, 0, 1, 0, -1) move(0, -1, 1, 0, 1) move(0, 0, 1, -1, 1) move(0, -1, 1, 0, 0) move(0, 0, 1, -1, 0) -> BEYOND
+            """
+            + """
+            move(0, 0, 1, 0, MIN) move(0, MIN, 1, 0, 1) move(0, 0, 1, MIN, 1) move(0, MIN, 1, MIN, MIN) -> BEYOND
+            move(0, 2, 1, 2, -2) -> BEYOND
+            """ + holds(1, 0, 0, 0));
+        T.test("Promise 29, BEYOND: beyond the first one's end", LISTS + """
+            move(0, 5, 1, 0, 1) move(0, 3, 1, 0, 3) move(0, 6, 1, 0, 0) move(1, 0, 0, 0, 4) move(2, 0, 0, 0, 1) -> BEYOND
+            move(0, MAX, 1, 0, 1) move(0, 1, 1, 0, MAX) move(0, MAX, 1, 0, MAX) -> BEYOND
+            """
+            + holds(0, 1, 2, 3, 4, 5) + holds(1, 0, 0, 0));
+        T.test("Promise 29, BEYOND: beyond the other one's end", LISTS + """
+            move(0, 0, 1, 3, 1) move(0, 0, 1, 1, 3) move(0, 0, 1, 4, 0) move(0, 0, 1, 0, 4) move(0, 0, 2, 0, 1) -> BEYOND
+            move(0, 0, 1, MAX, 1) move(0, 0, 1, MAX, 0) move(0, 0, 1, MAX, MAX) -> BEYOND
+            """
+            + holds(1, 0, 0, 0));
+    }
+
+    /** What promises 30 and 31 refuse alike. */
+    private static void refusesPlaces(String promise, String call) {
+        String p = "Promise " + promise + ", ";
+        String before = THREE + LISTS;
+        T.test(p + "NONE: list", before
+            + "lay(-1, 0, 0, 0) lay(4, 0, 0, 0) lay(MIN, 0, 0, 0) lay(MAX, 0, 0, 0) -> NONE".replace("lay", call));
+        T.test(p + "NONE: name", before
+            + "lay(0, 0, -1, 0) lay(0, 0, 10, 0) lay(0, 0, MIN, 0) lay(0, 0, MAX, 0) -> NONE".replace("lay", call));
+        T.test(p + "BAD: day", before
+            + "lay(0, 0, 0, -1) lay(0, 0, 0, 720) lay(0, 0, 0, MIN) lay(0, 0, 0, MAX) -> BAD".replace("lay", call));
+        T.test(p + "NOTHING", before + "lay(3, 0, 0, 0) lay(3, 0, 9, 719) -> NOTHING".replace("lay", call));
+        T.test(p + "BEYOND: i is below 0", before + """
+            lay(0, -1, 0, 0) lay(0, MIN, 0, 0) lay(2, -1, 9, 0) -> BEYOND
+            """.replace("lay", call) + holds(0, 1, 2, 3, 4, 5));
+        T.test(p + "BEYOND: or above how many places it has", before + """
+            lay(0, 6, 0, 0) lay(0, 30, 0, 0) lay(0, MAX, 0, 0) lay(1, 4, 9, 0) lay(2, 1, 0, 0) -> BEYOND
+            """.replace("lay", call) + holds(0, 1, 2, 3, 4, 5));
     }
 
     private static void lay() {
-        RecurringDays x = three();
-        x.list(0, 5);
-        refusesPlaces("30 lay", x, true);
-        due("30 until there is no more", x.lay(0, 1, 2, 11), 2);
-        due("30 the place before", x.get(0, 0), 0);
-        due("30 the first", x.get(0, 1), 11);
-        due("30 the second", x.get(0, 2), 12);
-        due("30 the place behind", x.get(0, 3), 0);
-        due("30 until a place isn't there", x.lay(0, 3, 0, 1), 2);
-        due("30 the last place", x.get(0, 4), 14);
-        due("30 at the end", x.lay(0, 5, 0, 0), 0);
-        due("30 of none", x.lay(0, 0, 9, 0), 0);
-        due("30 from the day itself", x.lay(0, 0, 0, 714), 1);
-        due("30 it is there", x.get(0, 0), 714);
-        due("30 it stays", x.get(0, 1), 11);
-    }
-
-    private static void refusesPlaces(String call, RecurringDays x, boolean lay) {
-        for (int list : NO_LISTS) {
-            due(call + "(" + list + ", ..)", place(x, lay, list, 0, 0, 0), NONE);
-            due(call + ": NONE before BAD", place(x, lay, list, 0, 0, -1), NONE);
-        }
-        for (int name : NO_NAMES) {
-            due(call + "(0, 0, " + name + ", 0)", place(x, lay, 0, 0, name, 0), NONE);
-            due(call + ": NONE before NOTHING", place(x, lay, 3, 0, name, 720), NONE);
-        }
-        for (int day : NO_DAYS) {
-            due(call + "(0, 0, 0, " + day + ")", place(x, lay, 0, 0, 0, day), BAD);
-            due(call + ": BAD before NOTHING", place(x, lay, 3, 0, 0, day), BAD);
-        }
-        due(call + ": NOTHING", place(x, lay, 3, 0, 0, 0), NOTHING);
-        due(call + ": NOTHING before BEYOND", place(x, lay, 3, -1, 0, 0), NOTHING);
-        for (int i : new int[] {-1, 6, LOW, HIGH}) {
-            due(call + "(0, " + i + ", 0, 0)", place(x, lay, 0, i, 0, 0), BEYOND);
-        }
-    }
-
-    private static int place(RecurringDays x, boolean lay, int list, int i, int name, int day) {
-        return lay ? x.lay(list, i, name, day) : x.judge(list, i, name, day);
+        String before = THREE + LISTS;
+        refusesPlaces("30", "lay");
+        T.test("Promise 30, DAYS of a NAME are LAID into a LIST from place i on", before + "lay(0, 1, 2, 11) -> 2\n"
+            + holds(0, 1, 11, 12, 4, 5) + "lay(0, 3, 0, 1) -> 2\n" + holds(0, 1, 11, 12, 7, 14));
+        T.test("Promise 30, how many were", before + """
+            lay(0, 0, 2, 0) lay(1, 0, 0, 0) -> 3
+            lay(0, 0, 0, 0) -> 5
+            lay(0, 0, 0, 714) lay(0, 4, 0, 0) lay(0, 0, 2, 12) -> 1
+            lay(0, 0, 9, 0) lay(0, 0, 2, 13) -> 0
+            """);
+        T.test("Promise 30, the last DAY of all", """
+            extra(0, 719)
+            list(0, 2)
+            lay(0, 0, 0, 0) lay(0, 1, 0, 719) -> 1
+            """ + holds(0, 719, 719));
+        T.test("Promise 30, i at the end: none", before + "lay(0, 5, 0, 0) lay(1, 3, 0, 0) lay(2, 0, 0, 0) -> 0\n"
+            + holds(0, 1, 2, 3, 4, 5));
     }
 
     private static void judge() {
-        RecurringDays x = three();
-        x.list(0, 5);
-        refusesPlaces("31 judge", x, false);
-        due("31 the first place", x.judge(0, 0, 2, 0), 0);
-        x.put(0, 1, 11);
-        x.put(0, 2, 12);
-        due("31 told from that place on", x.judge(0, 1, 2, 11), 2);
-        x.put(0, 3, -1);
-        due("31 -1 where there is no more", x.judge(0, 1, 2, 11), 3);
-        x.put(0, 4, -1);
-        due("31 none", x.judge(0, 1, 2, 11), NO_DAY);
-        due("31 another day", x.judge(0, 1, 2, 12), 0);
-        due("31 at the end", x.judge(0, 5, 2, 0), NO_DAY);
-        due("31 -1 and no day at all", x.judge(0, 3, 9, 0), NO_DAY);
-        x.list(1, 1);
-        x.put(1, 0, 714);
-        due("31 to the end of the list", x.judge(1, 0, 0, 708), NO_DAY);
-        x.list(1, 2);
-        x.extra(2, 719);
-        x.put(1, 0, 719);
-        x.put(1, 1, -1);
-        due("31 behind the last day", x.judge(1, 0, 2, 13), NO_DAY);
-        due("31 nothing is changed", x.get(1, 0), 719);
-        x.list(1, 2);
-        due("31 day 0 is a day", x.judge(1, 0, 0, 0), 1);
-        x.put(1, 1, 7);
-        due("31 day 0 and the next", x.judge(1, 0, 0, 0), NO_DAY);
-        x.put(1, 0, -1);
-        due("31 -1 is not day 0", x.judge(1, 0, 0, 0), 0);
+        String before = THREE + LISTS;
+        refusesPlaces("31", "judge");
+        T.test("Promise 31, JUDGED by a LIST", before + """
+            judge(0, 0, 2, 0) -> 0
+            put(0, 1, 11) put(0, 2, 12)
+            judge(0, 1, 2, 11) -> 2
+            put(0, 3, -1)
+            judge(0, 1, 2, 11) -> 3
+            put(0, 4, -1)
+            judge(0, 1, 2, 11) -> -5
+            judge(0, 1, 2, 10) judge(0, 1, 2, 12) -> 0
+            """);
+        T.test("Promise 31, DAY 0 is a DAY, -1 none", before + """
+            judge(1, 0, 0, 0) -> 1
+            put(1, 1, 7) put(1, 2, 14)
+            judge(1, 0, 0, 0) -> -5
+            put(1, 0, -1)
+            judge(1, 0, 0, 0) -> 0
+            judge(1, 0, 9, 0) -> 1
+            """);
+        T.test("Promise 31, i at the end: none", before + "judge(0, 5, 0, 0) judge(1, 3, 0, 0) judge(2, 0, 0, 0) -> -5");
+        T.test("Promise 31, what was LAID is as it is JUDGED", before + """
+            lay(0, 1, 1, 3)
+            judge(0, 1, 1, 3) -> -5
+            extra(1, 719)
+            judge(0, 1, 1, 3) -> -5
+            out(1, 44)
+            judge(0, 1, 1, 3) -> 2
+            """);
     }
 
     private static void image() {
-        RecurringDays x = new RecurringDays();
-        due("32 of nothing", x.image(), 0);
-        Checks.rule(x, 0, "w0");
-        Checks.rule(x, 1, "w0&w1");
-        x.count(0, 0, 50);
-        x.extra(9, 1);
-        due("32 how many have a rule", x.image(), 2);
-        due("32 it forgets nothing", x.told(3), 1);
-        Checks.rule(x, 0, "w1");
-        Checks.rule(x, 2, "w1");
-        due("32 anew", x.image(), 3);
-        x.drop(0);
-        x.undo();
-        due("32 the later one counts", x.at(0, 0), 1);
+        T.test("Promise 32, how many NAMES have a RULE", """
+            extra(5, 5)
+            image() -> 0
+            rule(0, "w0")
+            rule(1, "w0&w1")
+            image() -> 2
+            drop(0)
+            image() -> 1
+            """ + each(0, 9, name -> "copy(1, " + name + ") -> 0") + "image() -> 10");
+        T.test("Promise 32, THE IMAGE is taken: all else stays", THREE + """
+            count(0, 0, 50) -> 8
+            tape("w")
+            out(0, 0)
+            count(1, 0, 50)
+            image() -> 3
+            told(0) -> 3
+            told(2) -> 2
+            told(3) told(4) told(5) -> 1
+            at(0, 0) -> 7
+            """);
+        T.test("Promise 32, a later one is in its place", THREE + """
+            image() -> 3
+            rule(0, "w1")
+            drop(2)
+            image() -> 2
+            drop(0)
+            undo() -> 2
+            at(0, 0) -> 1
+            drop(2) -> STATE
+            """);
     }
 
     private static void undo() {
-        RecurringDays x = three();
-        due("33 there is none", x.undo(), STATE);
-        x.out(0, 7);
-        x.extra(3, 8);
-        x.image();
-        Checks.rule(x, 0, "w1");
-        x.drop(1);
-        Checks.rule(x, 4, "w2");
-        x.out(0, 7);
-        x.out(0, 14);
-        x.extra(3, 8);
-        x.extra(4, 9);
-        x.count(0, 0, 50);
-        x.count(0, 0, 50);
-        x.list(0, 2);
-        x.put(0, 1, 77);
-        Checks.tape(x, "w3");
-        due("33 how many have a rule", x.undo(), 3);
-        due("33 nothing is remembered", x.told(3), 0);
-        due("33 hits stay", x.told(1), 1);
-        due("33 misses stay", x.told(2), 1);
-        due("33 the tape stays", x.told(4), 2);
-        due("33 lists stay", x.get(0, 1), 77);
-        due("33 out days", x.told(5), 1);
-        due("33 extra days", x.told(6), 1);
-        due("33 A's days", x.at(0, 1), 14);
-        due("33 B's rule", x.count(1, 0, 719), 48);
-        due("33 D's extra day", x.at(3, 0), 8);
-        due("33 E has none", x.drop(4), STATE);
-        due("33 the rule behind an out day", x.out(0, 7), 0);
-        due("33 is as it was", x.at(0, 1), 7);
-        x.drop(0);
-        due("33 a second time", x.undo(), 3);
-        due("33 is as the first", x.at(0, 1), 14);
+        String changed = THREE + """
+            out(0, 7)
+            extra(3, 8)
+            image() -> 3
+            rule(0, "w1")
+            rule(4, "w2")
+            drop(1)
+            out(0, 7)
+            out(0, 14)
+            extra(3, 8)
+            extra(4, 9)
+            """;
+        T.test("Promise 33, all is as THE IMAGE", changed + """
+            undo() -> 3
+            at(0, 0) -> 0
+            at(0, 1) -> 14
+            count(1, 0, 719) -> 48
+            at(3, 0) -> 8
+            at(4, 0) -> NO_DAY
+            told(5) told(6) -> 1
+            drop(4) -> STATE
+            drop(2) -> 3
+            """);
+        T.test("Promise 33, all is as THE IMAGE: of an object without anything", "image() -> 0\n" + THREE + """
+            out(0, 7) extra(9, 9)
+            undo() told(0) told(5) told(6) -> 0
+            merged(1023, -1) -> 0
+            """);
+        T.test("Promise 33, all is as THE IMAGE: each NAME", each(0, 9, name -> "rule(" + name + ", \"r" + name + ",9\") -> "
+            + (10 - name) + "\nout(" + name
+            + ", 9) extra(" + name + ", 20) -> 1") + "image() -> 10\n" + each(0, 9, name -> "drop(" + name + ")\nout(" + name
+            + ", 9) extra(" + name + ", 20) -> 0")
+            + "undo() -> 10\n" + each(0, 9, name -> "at(" + name + ", 0) -> " + (name == 9 ? 20 : name) + "\nat(" + name
+            + ", -1) -> 20\nhas(" + name + ", 9) -> 0"));
+        T.test("Promise 33, nothing is REMEMBERED", THREE + """
+            count(0, 0, 50) count(1, 0, 50)
+            image() -> 3
+            count(0, 0, 60)
+            undo() -> 3
+            told(3) -> 0
+            remembered(0, 0) -> NONE
+            told(2) -> 3
+            count(0, 0, 50) -> 8
+            told(1) -> 0
+            told(2) -> 4
+            """);
+        T.test("Promise 33, how many NAMES have a RULE", "rule(5, \"w0&w1\")\nimage() -> 1\n" + THREE
+            + "undo() undo() -> 1\ntold(0) -> 1");
+        T.test("Promise 33, THE IMAGE stays: a second time", changed + """
+            undo() -> 3
+            drop(0)
+            out(0, 7)
+            extra(9, 0)
+            undo() -> 3
+            at(0, 1) -> 14
+            has(9, 0) -> 0
+            told(5) told(6) -> 1
+            """);
+        T.test("Promise 33, THE IMAGE is as it was taken, though NAMES change", THREE + """
+            image() -> 3
+            undo() -> 3
+            out(0, 0) extra(0, 1)
+            rule(2, "r1,1")
+            undo() -> 3
+            at(0, 0) -> 0
+            at(2, 0) -> 10
+            told(5) told(6) -> 0
+            """);
+        T.test("Promise 33, STATE: there is none", THREE + "undo() -> STATE\nat(0, 0) -> 0\nimage() -> 3\nundo() -> 3");
     }
 }
