@@ -1,7 +1,3 @@
-import java.util.function.IntFunction;
-import java.util.stream.Collectors;
-import java.util.stream.IntStream;
-
 /** The promises 1 to 33: a test for each sentence, ordinary inputs first, then edges and what is refused. */
 public final class PromiseTest {
     private static final Sentences T = new Sentences();
@@ -57,24 +53,23 @@ public final class PromiseTest {
         T.end("PromiseTest", "Promise", 33);
     }
 
-    private static String each(int least, int most, IntFunction<String> line) {
-        return IntStream.rangeClosed(least, most).mapToObj(line).collect(Collectors.joining("\n", "", "\n"));
-    }
-
     /** A list's first places. */
     private static String holds(int list, int... values) {
-        return each(0, values.length - 1, i -> "get(" + list + ", " + i + ") -> " + values[i]);
+        return Sentences.each(0, values.length - 1, i -> "get(" + list + ", " + i + ") -> " + values[i]);
     }
 
     private static void newObject() {
-        T.test("Promise 1, no RULES", "told(0) image() -> 0\n" + each(0, 9, name -> "drop(" + name + ") -> STATE\ncopy(" + name
-            + ", 0) -> STATE\nat(" + name
-            + ", 0) -> NO_DAY"));
+        T.test("Promise 1, no RULES", "told(0) image() -> 0\n" + Sentences.eachName("""
+            drop(NAME) copy(NAME, 0) -> STATE
+            at(NAME, 0) -> NO_DAY
+            """));
         T.test("Promise 1, nothing else either", """
             told(1) told(2) told(3) told(4) told(5) told(6) merged(1023, -1) clear() -> 0
             undo() -> STATE
-            """
-            + each(0, 3, list -> "get(" + list + ", 0) -> NO_PLACE\nput(" + list + ", 0, 1) -> NOTHING") + "remembered(0, 0) -> NONE");
+            get(0, 0) get(1, 0) get(2, 0) get(3, 0) -> NO_PLACE
+            put(0, 0, 1) put(1, 0, 1) put(2, 0, 1) put(3, 0, 1) -> NOTHING
+            remembered(0, 0) -> NONE
+            """);
     }
 
     private static void feed() {
@@ -87,7 +82,7 @@ public final class PromiseTest {
             feed(119) -> 2
             rule(0) -> -100
             """);
-        T.test("Promise 2, how many it has", each(1, 80, i -> "feed(119) -> " + i) + "told(4) -> 80");
+        T.test("Promise 2, how many it has", Sentences.each(1, 80, i -> "feed(119) -> " + i) + "told(4) -> 80");
         T.test("Promise 2, BAD: below 1", "feed(0) feed(-1) feed(MIN) feed(-137) -> BAD\ntold(4) -> 0");
         T.test("Promise 2, BAD: above 127", "feed(128) feed(255) feed(256) feed(375) feed(MAX) -> BAD\ntold(4) -> 0");
         T.test("Promise 2, FULL: behind 80", "tape(\"" + "w0|".repeat(26)
@@ -230,7 +225,7 @@ public final class PromiseTest {
 
     /** What promises 7 and 8 have alike. */
     private static void outAndExtra(String promise, String call) {
-        String seven = each(1, 7, i -> "out(0, " + i + ") -> " + i);
+        String seven = Sentences.each(1, 7, i -> "out(0, " + i + ") -> " + i);
         String p = "Promise " + promise + ", ";
         T.test(p + "how many are", (seven + "out(1, 0) out(9, 719) -> 1\nout(9, 0) -> 2").replace("out(", call + "("));
         T.test(p + "if it was, it is one no more", """
@@ -279,12 +274,12 @@ public final class PromiseTest {
             rule(0, "r19,21") -> 3
             count(0, 0, 719) -> 2
             """);
-        T.test("Promise 7, FULL: it stays in", "rule(0, \"r0,9\")\n" + each(1, 7, i -> "out(0, " + i + ") -> " + i) + """
+        T.test("Promise 7, FULL: it stays in", "rule(0, \"r0,9\")\n" + Sentences.each(1, 7, i -> "out(0, " + i + ") -> " + i) + """
             out(0, 8) -> FULL
             has(0, 8) -> 1
             count(0, 0, 719) -> 3
             """);
-        T.test("Promise 7, EXTRA ones are another matter", each(1, 7, i -> "extra(0, " + i + ") -> " + i) + """
+        T.test("Promise 7, EXTRA ones are another matter", Sentences.each(1, 7, i -> "extra(0, " + i + ") -> " + i) + """
             out(0, 9) -> 1
             out(0, 1) -> 2
             told(6) -> 7
@@ -309,12 +304,12 @@ public final class PromiseTest {
             extra(0, 1) -> 0
             has(0, 1) -> 1
             """);
-        T.test("Promise 8, FULL: it stays away", each(1, 7, i -> "extra(0, " + i + ") -> " + i) + """
+        T.test("Promise 8, FULL: it stays away", Sentences.each(1, 7, i -> "extra(0, " + i + ") -> " + i) + """
             extra(0, 8) -> FULL
             has(0, 8) -> 0
             count(0, 0, 719) -> 7
             """);
-        T.test("Promise 8, OUT ones are another matter", each(1, 7, i -> "out(0, " + i + ") -> " + i) + """
+        T.test("Promise 8, OUT ones are another matter", Sentences.each(1, 7, i -> "out(0, " + i + ") -> " + i) + """
             extra(0, 9) -> 1
             extra(0, 1) -> 2
             told(5) -> 7
@@ -322,7 +317,7 @@ public final class PromiseTest {
     }
 
     private static void has() {
-        T.test("Promise 9, whether it is one of its DAYS: 1, 0", THREE + each(0, 238, i -> "has(0, " + 3 * i + ") -> "
+        T.test("Promise 9, whether it is one of its DAYS: 1, 0", THREE + Sentences.each(0, 238, i -> "has(0, " + 3 * i + ") -> "
             + (i % 7 == 0 ? 1 : 0))
             + "has(2, 9) has(2, 13) has(9, 0) has(9, 719) -> 0\nhas(2, 10) has(2, 12) -> 1");
         T.test("Promise 9, NONE: name", "has(-1, 0) has(10, 0) has(MIN, 0) has(MAX, 0) has(10, 720) -> NONE");
@@ -677,8 +672,7 @@ public final class PromiseTest {
             told(0) -> 4
             drop(0)
             told(0) -> 3
-            """
-            + each(0, 9, name -> "copy(1, " + name + ") -> 48") + "told(0) -> 10");
+            """ + Sentences.each(0, 9, name -> "copy(1, " + name + ") -> 48") + "told(0) -> 10");
         T.test("Promise 24, what 1 HITS and 2 MISSES", THREE + """
             count(0, 0, 1) count(0, 0, 1) count(0, 0, 2) count(0, 0, 1) count(0, 1, 0)
             told(1) told(2) -> 2
@@ -686,7 +680,8 @@ public final class PromiseTest {
             told(1) -> 2
             told(2) -> 3
             """);
-        T.test("Promise 24, what 3 how many SPANS are REMEMBERED", THREE + "told(3) -> 0\n" + each(1, 6, i -> "count(0, 1, " + i
+        T.test("Promise 24, what 3 how many SPANS are REMEMBERED", THREE + "told(3) -> 0\n" + Sentences.each(1, 6, i -> "count(0, 1, "
+            + i
             + ") -> 0\ntold(3) -> " + i) + """
             count(1, 1, 7)
             told(3) -> 6
@@ -701,7 +696,8 @@ public final class PromiseTest {
             told(5) -> 2
             told(6) -> 0
             """);
-        T.test("Promise 24, what 5 DAYS OUT of all NAMES: 70 at most", each(0, 69, i -> "out(" + i / 7 + ", " + i % 7 + ") -> "
+        T.test("Promise 24, what 5 DAYS OUT of all NAMES: 70 at most", Sentences.each(0, 69, i -> "out(" + i / 7 + ", " + i % 7
+            + ") -> "
             + (i % 7 + 1)) + "told(5) -> 70\ntold(6) -> 0");
         T.test("Promise 24, what 6 EXTRA ones", """
             extra(3, 1) extra(9, 1) extra(4, 2) extra(4, 3)
@@ -710,7 +706,8 @@ public final class PromiseTest {
             told(6) -> 3
             told(5) -> 0
             """);
-        T.test("Promise 24, what 6 EXTRA ones: 70 at most", each(0, 69, i -> "extra(" + i / 7 + ", " + i % 7 + ") -> " + (i % 7 + 1))
+        T.test("Promise 24, what 6 EXTRA ones: 70 at most", Sentences.each(0, 69, i -> "extra(" + i / 7 + ", " + i % 7 + ") -> "
+            + (i % 7 + 1))
             + "told(6) -> 70\ntold(5) -> 0");
         T.test("Promise 24, NONE", "told(-1) told(7) told(MIN) told(MAX) -> NONE");
     }
@@ -734,7 +731,7 @@ public final class PromiseTest {
             """);
         T.test("Promise 25, NONE: i", "remembered(0, 0) -> NONE\n" + two
             + "remembered(-1, 0) remembered(2, 0) remembered(5, 0) remembered(6, 0) remembered(MIN, 0) remembered(MAX, 0) -> NONE");
-        T.test("Promise 25, NONE: i behind 6", each(0, 5, i -> "count(0, 0, " + i + ") -> 0") + """
+        T.test("Promise 25, NONE: i behind 6", Sentences.each(0, 5, i -> "count(0, 0, " + i + ") -> 0") + """
             remembered(5, 2) -> 5
             remembered(6, 2) -> NONE
             count(0, 0, 6)
@@ -755,10 +752,10 @@ public final class PromiseTest {
             list(0, 1) -> 1
             get(0, 1) -> NO_PLACE
             """);
-        T.test("Promise 26, all 0", "list(3, 30)\n" + each(0, 29, i -> "get(3, " + i + ") -> 0\nput(3, " + i + ", 7)") + """
+        T.test("Promise 26, all 0", "list(3, 30)\n" + Sentences.each(0, 29, i -> "get(3, " + i + ") -> 0\nput(3, " + i + ", 7)") + """
             list(3, 2)
             list(3, 30) -> 1
-            """ + each(0, 29, i -> "get(3, " + i + ") -> 0"));
+            """ + Sentences.each(0, 29, i -> "get(3, " + i + ") -> 0"));
         T.test("Promise 26, a row of none, and of 30", """
             list(0, 0) list(1, 30) -> 1
             put(0, 0, 1) -> BEYOND
@@ -792,9 +789,9 @@ public final class PromiseTest {
         T.test("Promise 29, n places of a LIST from i on come to another one from j on: n", LISTS + "move(0, 2, 1, 1, 2) -> 2\n"
             + holds(1, 0, 3, 4) + holds(0, 1, 2, 3, 4, 5)
             + "move(0, 0, 1, 0, 3) -> 3\n" + holds(1, 1, 2, 3) + "put(1, 0, 9)\nmove(1, 0, 0, 4, 1) -> 1\n" + holds(0, 1, 2, 3, 4, 9));
-        T.test("Promise 29, all of a row of 30", "list(0, 30) list(3, 30)\n" + each(0, 29, i -> "put(0, " + i + ", " + (i - 7)
-            + ") -> 1") + "move(0, 0, 3, 0, 30) -> 30\n"
-            + each(0, 29, i -> "get(3, " + i + ") -> " + (i - 7)));
+        T.test("Promise 29, all of a row of 30", "list(0, 30) list(3, 30)\n" + Sentences.each(0, 29, i -> "put(0, " + i + ", "
+            + (i - 7) + ") -> 1")
+            + "move(0, 0, 3, 0, 30) -> 30\n" + Sentences.each(0, 29, i -> "get(3, " + i + ") -> " + (i - 7)));
         T.test("Promise 29, or the same, as they all were before: to later places", LISTS + "move(0, 0, 0, 1, 4) -> 4\n"
             + holds(0, 1, 1, 2, 3, 4));
         T.test("Promise 29, or the same, as they all were before: to earlier places", LISTS + "move(0, 1, 0, 0, 4) -> 4\n"
@@ -802,29 +799,24 @@ public final class PromiseTest {
         T.test("Promise 29, n 0: no place, also at the ends", LISTS + """
             move(0, 0, 1, 0, 0) move(0, 5, 1, 3, 0) move(2, 0, 2, 0, 0) move(2, 0, 0, 5, 0) -> 0
             """ + holds(0, 1, 2, 3, 4, 5));
-        T.test("Promise 29, NONE: lists", LISTS
-            + """
+        T.test("Promise 29, NONE: lists", LISTS + """
             move(-1, 0, 0, 0, 1) move(4, 0, 0, 0, 1) move(MIN, 0, 0, 0, 1) move(MAX, 0, 0, 0, 1) -> NONE
             move(0, 0, -1, 0, 1) move(0, 0, 4, 0, 1) move(0, 0, MIN, 0, 1) move(0, 0, MAX, 0, 1) -> NONE
             """);
         T.test("Promise 29, NOTHING: in either", LISTS + "move(3, 0, 0, 0, 1) move(0, 0, 3, 0, 1) move(3, 0, 3, 0, 0) -> NOTHING");
         T.test("Promise 29, BEYOND: n, i or j is below 0", LISTS + """
             move(0, 0, 1, 0, -1) move(0, -1, 1, 0, 1) move(0, 0, 1, -1, 1) move(0, -1, 1, 0, 0) move(0, 0, 1, -1, 0) -> BEYOND
-            """
-            + """
             move(0, 0, 1, 0, MIN) move(0, MIN, 1, 0, 1) move(0, 0, 1, MIN, 1) move(0, MIN, 1, MIN, MIN) -> BEYOND
             move(0, 2, 1, 2, -2) -> BEYOND
             """ + holds(1, 0, 0, 0));
         T.test("Promise 29, BEYOND: beyond the first one's end", LISTS + """
             move(0, 5, 1, 0, 1) move(0, 3, 1, 0, 3) move(0, 6, 1, 0, 0) move(1, 0, 0, 0, 4) move(2, 0, 0, 0, 1) -> BEYOND
             move(0, MAX, 1, 0, 1) move(0, 1, 1, 0, MAX) move(0, MAX, 1, 0, MAX) -> BEYOND
-            """
-            + holds(0, 1, 2, 3, 4, 5) + holds(1, 0, 0, 0));
+            """ + holds(0, 1, 2, 3, 4, 5) + holds(1, 0, 0, 0));
         T.test("Promise 29, BEYOND: beyond the other one's end", LISTS + """
             move(0, 0, 1, 3, 1) move(0, 0, 1, 1, 3) move(0, 0, 1, 4, 0) move(0, 0, 1, 0, 4) move(0, 0, 2, 0, 1) -> BEYOND
             move(0, 0, 1, MAX, 1) move(0, 0, 1, MAX, 0) move(0, 0, 1, MAX, MAX) -> BEYOND
-            """
-            + holds(1, 0, 0, 0));
+            """ + holds(1, 0, 0, 0));
     }
 
     /** What promises 30 and 31 refuse alike. */
@@ -907,7 +899,7 @@ public final class PromiseTest {
             image() -> 2
             drop(0)
             image() -> 1
-            """ + each(0, 9, name -> "copy(1, " + name + ") -> 0") + "image() -> 10");
+            """ + Sentences.each(0, 9, name -> "copy(1, " + name + ") -> 0") + "image() -> 10");
         T.test("Promise 32, THE IMAGE is taken: all else stays", THREE + """
             count(0, 0, 50) -> 8
             tape("w")
@@ -960,12 +952,16 @@ public final class PromiseTest {
             undo() told(0) told(5) told(6) -> 0
             merged(1023, -1) -> 0
             """);
-        T.test("Promise 33, all is as THE IMAGE: each NAME", each(0, 9, name -> "rule(" + name + ", \"r" + name + ",9\") -> "
-            + (10 - name) + "\nout(" + name
-            + ", 9) extra(" + name + ", 20) -> 1") + "image() -> 10\n" + each(0, 9, name -> "drop(" + name + ")\nout(" + name
-            + ", 9) extra(" + name + ", 20) -> 0")
-            + "undo() -> 10\n" + each(0, 9, name -> "at(" + name + ", 0) -> " + (name == 9 ? 20 : name) + "\nat(" + name
-            + ", -1) -> 20\nhas(" + name + ", 9) -> 0"));
+        T.test("Promise 33, all is as THE IMAGE: each NAME", Sentences.eachName("""
+            rule(NAME, "r5,6") -> 2
+            out(NAME, 5) extra(NAME, 9) -> 1
+            """) + "image() -> 10\n" + Sentences.eachName("""
+            drop(NAME) -> 2
+            out(NAME, 5) extra(NAME, 9) -> 0
+            """) + "undo() -> 10\n" + Sentences.eachName("""
+            at(NAME, 0) -> 6
+            at(NAME, 1) at(NAME, -1) -> 9
+            """));
         T.test("Promise 33, nothing is REMEMBERED", THREE + """
             count(0, 0, 50) count(1, 0, 50)
             image() -> 3

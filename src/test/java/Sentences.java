@@ -7,8 +7,11 @@ import java.util.HashSet;
 import java.util.List;
 import java.util.Map;
 import java.util.Set;
+import java.util.function.IntFunction;
 import java.util.regex.Matcher;
 import java.util.regex.Pattern;
+import java.util.stream.Collectors;
+import java.util.stream.IntStream;
 
 /**
  * Tests of one sentence of the document each. A test's name begins with the Term or the promise; what it does is told as
@@ -47,6 +50,16 @@ final class Sentences {
     private static final class Run {
         final RecurringDays x = new RecurringDays();
         int calls;
+    }
+
+    /** Lines for each number. */
+    static String each(int least, int most, IntFunction<String> lines) {
+        return IntStream.rangeClosed(least, most).mapToObj(lines).collect(Collectors.joining("\n", "", "\n"));
+    }
+
+    /** Lines for each NAME, which stands in them as NAME. */
+    static String eachName(String lines) {
+        return each(0, 9, name -> lines.replace("NAME", String.valueOf(name)));
     }
 
     void test(String sentence, String... runs) {

@@ -1,7 +1,3 @@
-import java.util.function.IntFunction;
-import java.util.stream.Collectors;
-import java.util.stream.IntStream;
-
 /** The Terms 1 to 4, but for the RULE as a text (RuleTextTest): a test for each sentence. */
 public final class TermsTest {
     private static final Sentences T = new Sentences();
@@ -39,15 +35,11 @@ public final class TermsTest {
         T.end("TermsTest", "Term", 4);
     }
 
-    private static String each(int least, int most, IntFunction<String> line) {
-        return IntStream.rangeClosed(least, most).mapToObj(line).collect(Collectors.joining("\n", "", "\n"));
-    }
-
     private static void calls() {
-        T.test("Use, an object is used for at most 512 calls: the 512th is as the first",
-            each(1, 255, i -> "out(9, 5) -> 1\nout(9, 5) -> 0") + "extra(9, 5) -> 1\nat(9, -1) -> 5",
-            "rule(0, \"w0\")\n" + each(4, 511, i -> "count(0, " + i + ", 719)") + "told(2) -> 508",
-            each(1, 170, i -> "rule(0, \"A\") -> 0\nout(0, 719) -> " + i % 2) + "next(0, 0) -> NO_DAY\nclear() -> 0");
+        T.test("What it is, an object is used for at most 512 calls: the 512th is as the first",
+            Sentences.each(1, 255, i -> "out(9, 5) -> 1\nout(9, 5) -> 0") + "extra(9, 5) -> 1\nat(9, -1) -> 5",
+            "rule(0, \"w0\")\n" + Sentences.each(4, 511, i -> "count(0, " + i + ", 719)") + "told(2) -> 508",
+            Sentences.each(1, 170, i -> "rule(0, \"A\") -> 0\nout(0, 719) -> " + i % 2) + "next(0, 0) -> NO_DAY\nclear() -> 0");
     }
 
     private static void days() {
@@ -63,7 +55,7 @@ public final class TermsTest {
             rule(1, "e1,0") -> 720
             count(1, 0, 719) -> 720
             """);
-        T.test("Term 1, DAYS are 0 .. 719: -1 and 720 are none", each(0, 1, i -> """
+        T.test("Term 1, DAYS are 0 .. 719: -1 and 720 are none", Sentences.each(0, 1, i -> """
             out(0, DAY) extra(0, DAY) has(0, DAY) next(0, DAY) ahead(0, DAY) count(0, DAY, 719) count(0, 0, DAY) -> BAD
             clash(0, 1, DAY) busiest(DAY, 719, 0) busiest(0, DAY, 0) free(0, DAY, 1) nth(0, 0, 0, DAY) -> BAD
             lay(0, 0, 0, DAY) judge(0, 0, 0, DAY) -> BAD
@@ -156,10 +148,12 @@ public final class TermsTest {
     }
 
     private static void names() {
-        T.test("Term 1, NAMES are 0 .. 9", each(0, 9, name -> "extra(" + name + ", " + name + ") -> 1\nrule(" + name + ", \"e700,"
-            + name + "\") -> 2\nhas("
-            + name + ", " + name + ") -> 1") + "told(0) -> 10\nmerged(1023, -1) -> 20");
-        T.test("Term 1, NAMES are 0 .. 9: -1 and 10 are none", each(0, 1, i -> """
+        T.test("Term 1, NAMES are 0 .. 9", Sentences.eachName("""
+            extra(NAME, NAME) -> 1
+            rule(NAME, "e700,NAME") -> 2
+            has(NAME, NAME) -> 1
+            """) + "told(0) -> 10\nmerged(1023, -1) -> 20");
+        T.test("Term 1, NAMES are 0 .. 9: -1 and 10 are none", Sentences.each(0, 1, i -> """
             rule(NAME) drop(NAME) copy(NAME, 0) copy(0, NAME) out(NAME, 0) extra(NAME, 0) has(NAME, 0) next(NAME, 0) -> NONE
             ahead(NAME, 0) at(NAME, 0) count(NAME, 0, 1) gap(NAME) period(NAME) clash(NAME, 0, 0) clash(0, NAME, 0) -> NONE
             unlike(NAME, 0) unlike(0, NAME) parts(NAME, 0, 0) nth(NAME, 0, 0, 0) lay(0, 0, NAME, 0) judge(0, 0, NAME, 0) -> NONE
@@ -188,8 +182,8 @@ public final class TermsTest {
             told(5) told(6) -> 0
             out(0, 0) out(9, 719) extra(0, 0) extra(9, 719) -> 1
             """);
-        T.test("Term 1, DAYS left OUT and EXTRA ones: 7 at most each", each(1, 7, i -> "out(0, " + i + ") extra(0, " + (700 + i)
-            + ") -> " + i) + """
+        T.test("Term 1, DAYS left OUT and EXTRA ones: 7 at most each",
+            Sentences.each(1, 7, i -> "out(0, " + i + ") extra(0, " + (700 + i) + ") -> " + i) + """
             out(0, 8) extra(0, 708) out(0, 701) extra(0, 1) -> FULL
             told(5) told(6) -> 7
             out(1, 1) extra(1, 1) -> 1
@@ -233,7 +227,7 @@ public final class TermsTest {
     }
 
     private static void tape() {
-        T.test("Term 2, THE TAPE holds 0 .. 80 bytes", "told(4) -> 0\n" + each(1, 80, i -> "feed(119) -> " + i) + """
+        T.test("Term 2, THE TAPE holds 0 .. 80 bytes", "told(4) -> 0\n" + Sentences.each(1, 80, i -> "feed(119) -> " + i) + """
             told(4) -> 80
             feed(119) -> FULL
             told(4) -> 80
@@ -360,7 +354,8 @@ public final class TermsTest {
             merged(515, 4) -> 9
             merged(515, 5) -> 719
             """);
-        T.test("Term 3, MERGED: of a set of NAMES (bits)", each(0, 9, name -> "extra(" + name + ", " + 70 * name + ") -> 1\nmerged("
+        T.test("Term 3, MERGED: of a set of NAMES (bits)", Sentences.each(0, 9, name -> "extra(" + name + ", " + 70 * name
+            + ") -> 1\nmerged("
             + (1 << name) + ", 0) -> "
             + 70 * name + "\nmerged(" + (1 << name) + ", -1) -> 1\nmerged(" + (1023 - (1 << name)) + ", -1) -> " + name));
         T.test("Term 3, MERGED: of no NAME", THREE + "merged(0, -1) -> 0\nmerged(0, 0) -> NO_DAY\n");
@@ -410,9 +405,9 @@ public final class TermsTest {
             busiest(0, 719, 0) -> NO_DAY
             busiest(0, 719, 1) -> 0
             """);
-        T.test("Term 3, BUSIEST: all ten NAMES count, each once", each(0, 9, name -> "extra(" + name + ", 700) -> 1\nrule(" + name
-            + ", \"r700,700\") -> 1\nbusiest(0, 719, 1) -> "
-            + (name + 1)) + "busiest(0, 719, 0) -> 700");
+        T.test("Term 3, BUSIEST: all ten NAMES count, each once", Sentences.eachName("""
+            extra(NAME, 700) rule(NAME, "r700,700") -> 1
+            """) + "busiest(0, 719, 1) -> 10\nbusiest(0, 719, 0) -> 700");
     }
 
     private static void remembered() {
@@ -555,13 +550,14 @@ public final class TermsTest {
     }
 
     private static void lists() {
-        T.test("Term 4, LISTS 0 .. 3", each(0, 3, list -> "list(" + list + ", 2) -> 1\nput(" + list + ", 1, " + (list + 7) + ") -> 1")
-            + each(0, 3, list -> "get(" + list + ", 1) -> " + (list + 7)));
-        T.test("Term 4, LISTS 0 .. 3: -1 and 4 are none", each(0, 1, i -> """
+        T.test("Term 4, LISTS 0 .. 3", Sentences.each(0, 3, list -> "list(" + list + ", 2) -> 1\nput(" + list + ", 1, " + (list + 7)
+            + ") -> 1")
+            + Sentences.each(0, 3, list -> "get(" + list + ", 1) -> " + (list + 7)));
+        T.test("Term 4, LISTS 0 .. 3: -1 and 4 are none", Sentences.each(0, 1, i -> """
             list(LIST, 1) put(LIST, 0, 1) move(LIST, 0, 0, 0, 0) move(0, 0, LIST, 0, 0) lay(LIST, 0, 0, 0) judge(LIST, 0, 0, 0) -> NONE
             get(LIST, 0) -> NO_PLACE
             """.replace("LIST", i == 0 ? "-1" : "4")));
-        T.test("Term 4, LISTS hold nothing (at first)", each(0, 3, list -> """
+        T.test("Term 4, LISTS hold nothing (at first)", Sentences.each(0, 3, list -> """
             get(LIST, 0) -> NO_PLACE
             put(LIST, 0, 1) move(LIST, 0, LIST, 0, 0) lay(LIST, 0, 0, 0) judge(LIST, 0, 0, 0) -> NOTHING
             """.replace("LIST", String.valueOf(list))));
