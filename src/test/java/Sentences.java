@@ -93,6 +93,10 @@ final class Sentences {
         report(sentence, wrongs);
     }
 
+    int failures() {
+        return failed;
+    }
+
     /** Each number must have had a test under its heading ("Promise", "Term"). */
     void end(String suite, String heading, int most) {
         for (int number = 1; number <= most; number++) {
